@@ -1,0 +1,85 @@
+import java.util.Arrays;
+
+/** Promise 14: cut. */
+public final class CutTest {
+    public static void main(String[] args) {
+        Checks c = new Checks("CutTest");
+        partsOfParts(c);
+        longChain(c);
+        circle(c);
+        partsWhoseBytesAreThere(c);
+        signsThatAreBad(c);
+        noSuchSign(c);
+        c.end();
+    }
+
+    private static void partsOfParts(Checks c) {
+        TrueOutlines x = FontFile.of(Sign.row(2), Sign.row(3), Sign.composite(Sign.moved(1, 0, 0)),
+                Sign.composite(Sign.moved(2, 0, 0), Sign.joined(0, 0, 0)), Sign.EMPTY).read();
+        c.same("cut(4), an empty one", x.cut(4), 1);
+        c.same("cut(2)", x.cut(2), 3);
+        c.same("cut(2) again", x.cut(2), 3);
+        c.same("cut(1), used already", x.cut(1), 3);
+        c.same("cut(3)", x.cut(3), 5);
+        c.same("count(2)", x.count(2), 5);
+        TrueOutlines y = FontFile.of(Sign.row(2), Sign.row(3), Sign.composite(Sign.moved(1, 0, 0)),
+                Sign.composite(Sign.moved(2, 0, 0), Sign.joined(0, 0, 0)), Sign.EMPTY).read();
+        c.same("cut(0)", y.cut(0), 1);
+        c.same("cut(3), all of its parts", y.cut(3), 4);
+    }
+
+    private static void longChain(Checks c) {
+        byte[][] signs = new byte[60][];
+        signs[0] = Sign.EMPTY;
+        for (int i = 1; i < signs.length; i++) {
+            signs[i] = Sign.composite(Sign.moved(i - 1, 0, 0));
+        }
+        TrueOutlines x = FontFile.of(signs).read();
+        c.same("a chain of 60", x.cut(59), 60);
+    }
+
+    private static void circle(Checks c) {
+        TrueOutlines x = FontFile.of(Sign.composite(Sign.moved(1, 0, 0)), Sign.composite(Sign.moved(2, 0, 0)),
+                Sign.composite(Sign.moved(2, 0, 0), Sign.moved(0, 0, 0))).read();
+        c.same("a circle", x.cut(1), 3);
+    }
+
+    private static void partsWhoseBytesAreThere(Checks c) {
+        byte[] last = new Bytes().two(3 + 128, 2, 0, 0).two(1, 1, 1, 1).done();
+        byte[] whole = Sign.composite(Sign.moved(0, 0, 0), Sign.moved(1, 0, 0), last);
+        for (int size = 1; size <= whole.length; size++) {
+            TrueOutlines x = FontFile.of(true, Sign.EMPTY, Sign.EMPTY, Sign.EMPTY,
+                    Arrays.copyOf(whole, size), new byte[9]).read();
+            int due = 1 + (size >= 16 ? 1 : 0) + (size >= 22 ? 1 : 0) + (size >= whole.length ? 1 : 0);
+            c.same("cut(3) of " + size + " bytes", x.cut(3), due);
+        }
+        TrueOutlines y = FontFile.of(true, Sign.EMPTY, Sign.EMPTY,
+                Sign.composite(Sign.moved(9, 0, 0), Sign.moved(65535, 0, 0), Sign.moved(1, 0, 0))).read();
+        c.same("parts that are no signs are passed over", y.cut(2), 2);
+        byte[] simple = new Bytes().two(1).all(Arrays.copyOfRange(Sign.composite(Sign.moved(0, 0, 0)), 2, 16)).done();
+        TrueOutlines z = FontFile.of(true, Sign.EMPTY, simple).read();
+        c.same("no parts if the contours are 0 or more", z.cut(1), 1);
+    }
+
+    private static void signsThatAreBad(Checks c) {
+        TrueOutlines x = FontFile.of(true, new byte[3], Sign.composite(Sign.moved(0, 0, 0))).read();
+        c.same("a part that is bad is used", x.cut(1), 2);
+        TrueOutlines y = new FontFile().table("maxp", FontFile.maxp(3)).read();
+        c.same("without loca and glyf", y.cut(2), 1);
+        c.same("cut(0)", y.cut(0), 2);
+    }
+
+    private static void noSuchSign(Checks c) {
+        TrueOutlines x = FontFile.of(Sign.row(2), Sign.row(2)).read();
+        x.cut(1);
+        int[] wrong = {-1, 2, 200, Integer.MIN_VALUE, Integer.MAX_VALUE};
+        for (int sign : wrong) {
+            c.same("cut(" + sign + ")", x.cut(sign), -1);
+            c.same("count(2)", x.count(2), 1);
+        }
+        TrueOutlines y = new FontFile().table("maxp", FontFile.maxp(200)).read();
+        for (int i = 0; i < 200; i++) {
+            c.same("cut(" + (199 - i) + ")", y.cut(199 - i), i + 1);
+        }
+    }
+}

@@ -1,0 +1,144 @@
+/** Promise 7: map. */
+public final class MapTest {
+    private static final int SIGNS = 150;
+
+    public static void main(String[] args) {
+        Checks c = new Checks("MapTest");
+        form0(c);
+        form4(c);
+        form4Edges(c);
+        form6(c);
+        form12(c);
+        firstFormThatIsKnownCounts(c);
+        rowsThatArePast(c);
+        c.end();
+    }
+
+    private static TrueOutlines withCmap(byte[] cmap) {
+        return new FontFile().table("maxp", FontFile.maxp(SIGNS)).table("cmap", cmap).read();
+    }
+
+    /** One row, and the MAP behind it. */
+    private static TrueOutlines withMap(byte[] map) {
+        return withCmap(new Bytes().two(0, 1, 3, 1).four(12).all(map).done());
+    }
+
+    private static void all(Checks c, String what, TrueOutlines x, int[][] due) {
+        for (int[] pair : due) {
+            c.same(what + ": map(" + pair[0] + ")", x.map(pair[0]), pair[1]);
+        }
+    }
+
+    private static void form0(Checks c) {
+        Bytes map = new Bytes().two(0, 262, 0);
+        for (int i = 0; i < 256; i++) {
+            map.one(255 - i);
+        }
+        all(c, "form 0", withMap(map.two(0x0505).done()), new int[][] {
+            {0, 0}, {105, 0}, {106, 149}, {107, 148}, {254, 1}, {255, 0}, {256, 0}, {257, 0}, {-1, 0},
+            {Integer.MIN_VALUE, 0}, {Integer.MAX_VALUE, 0}});
+        all(c, "form 0, short", withMap(new Bytes().two(0, 0, 0).one(7, 8).done()),
+                new int[][] {{0, 7}, {1, 8}, {2, 0}, {255, 0}});
+    }
+
+    /** Segments 10 .. 12, 20 .. 29, 40 .. 41 and 65535: by d; by a row; by a row, with d. */
+    private static byte[] segments() {
+        return new Bytes().two(4, 0, 0, 8, 0, 0, 0)
+                .two(12, 29, 41, 65535).two(0)
+                .two(10, 20, 40, 65535)
+                .two(65536 - 9, 0, 65535, 1)
+                .two(0, 6, 6, 0)
+                .two(100, 0, 149)
+                .done();
+    }
+
+    private static void form4(Checks c) {
+        all(c, "form 4", withMap(segments()), new int[][] {
+            {9, 0}, {10, 1}, {11, 2}, {12, 3}, {13, 0}, {19, 0}, {20, 100}, {21, 0}, {22, 149}, {23, 0},
+            {29, 0}, {39, 0}, {40, 0}, {41, 148}, {42, 0}, {65534, 0}, {65535, 0}, {65536, 0}, {65546, 0},
+            {-1, 0}, {Integer.MIN_VALUE, 0}, {Integer.MAX_VALUE, 0}});
+    }
+
+    private static void form4Edges(Checks c) {
+        Bytes wraps = new Bytes().two(4, 0, 0, 2, 0, 0, 0).two(65535).two(0).two(0).two(3).two(0);
+        all(c, "form 4, the code and d wrap", withMap(wraps.done()),
+                new int[][] {{0, 3}, {146, 149}, {147, 0}, {65533, 0}, {65534, 1}, {65535, 2}, {65536, 0}});
+        Bytes wrapsInRow = new Bytes().two(4, 0, 0, 2, 0, 0, 0).two(9).two(0).two(8).two(65535).two(2).two(7, 65535);
+        all(c, "form 4, the row and d wrap", withMap(wrapsInRow.done()), new int[][] {{8, 6}, {9, 0}});
+        Bytes twice = new Bytes().two(4, 0, 0, 4, 0, 0, 0).two(9, 9).two(0).two(9, 5).two(1, 2).two(0, 0);
+        all(c, "form 4, the least k alone", withMap(twice.done()), new int[][] {{8, 0}, {9, 10}});
+        Bytes notSorted = new Bytes().two(4, 0, 0, 4, 0, 0, 0).two(9, 5).two(0).two(3, 3).two(1, 2).two(0, 0);
+        all(c, "form 4, not sorted", withMap(notSorted.done()), new int[][] {{5, 6}, {9, 10}});
+        Bytes none = new Bytes().two(4, 0, 0, 0, 0, 0, 0).two(9, 9, 9, 9);
+        all(c, "form 4, no segments", withMap(none.done()), new int[][] {{0, 0}, {9, 0}});
+        byte[] whole = new Bytes().two(4, 0, 0, 2, 0, 0, 0).two(9).two(0).two(8).two(0).two(2).two(7).done();
+        for (int size = 0; size <= whole.length; size++) {
+            byte[] part = java.util.Arrays.copyOf(whole, size);
+            c.same("form 4 of " + size + " bytes", withMap(part).map(8), size == whole.length ? 7 : 0);
+        }
+        byte[] byD = new Bytes().two(4, 0, 0, 2, 0, 0, 0).two(9).two(0).two(8).two(1).two(0).done();
+        for (int size = byD.length - 4; size <= byD.length; size++) {
+            byte[] part = java.util.Arrays.copyOf(byD, size);
+            c.same("form 4 by d of " + size + " bytes", withMap(part).map(8), size == byD.length ? 9 : 0);
+        }
+    }
+
+    private static void form6(Checks c) {
+        byte[] map = new Bytes().two(6, 0, 0, 1000, 4).two(5, 149, 150, 6, 7).done();
+        all(c, "form 6", withMap(map), new int[][] {
+            {999, 0}, {1000, 5}, {1001, 149}, {1002, 0}, {1003, 6}, {1004, 0}, {0, 0}, {-1, 0},
+            {Integer.MIN_VALUE, 0}, {Integer.MAX_VALUE, 0}, {66536, 0}});
+        byte[] cut = new Bytes().two(6, 0, 0, 1000, 4).two(5, 6).one(0).done();
+        all(c, "form 6, short", withMap(cut), new int[][] {{1000, 5}, {1001, 6}, {1002, 0}, {1003, 0}});
+        c.same("form 6, no how many", withMap(new Bytes().two(6, 0, 0, 0).one(0).done()).map(0), 0);
+        byte[] high = new Bytes().two(6, 0, 0, 65535, 2).two(3, 4).done();
+        all(c, "form 6, beyond 65535", withMap(high), new int[][] {{65535, 3}, {65536, 4}, {65537, 0}});
+    }
+
+    private static void form12(Checks c) {
+        byte[] map = new Bytes().two(12, 0).four(0, 0, 4)
+                .four(100, 109, 1)
+                .four(105, 120, 50)
+                .four(70000, 70001, 148)
+                .four(0x7FFFFFFFL, 0xFFFFFFFFL, 3)
+                .four(0, 0, 9).done();
+        all(c, "form 12", withMap(map), new int[][] {
+            {99, 0}, {100, 1}, {109, 10}, {110, 55}, {120, 65}, {121, 0}, {70000, 148}, {70001, 149},
+            {70002, 0}, {0, 0}, {Integer.MAX_VALUE, 3}, {-1, 0}});
+        byte[] beyond = new Bytes().two(12, 0).four(0, 0, 0xFFFFFFFFL)
+                .four(5, 8, 149).four(6, 8, 1).four(10, 20, 0xFFFFFFFFL).four(30, 30, 2).four(40, 40).done();
+        all(c, "form 12, no signs, and past", withMap(beyond), new int[][] {
+            {5, 149}, {6, 0}, {10, 0}, {11, 0}, {12, 0}, {30, 2}, {40, 0}, {41, 0}});
+        c.same("form 12, no how many", withMap(new Bytes().two(12, 0).four(0, 0).two(0).done()).map(0), 0);
+    }
+
+    private static void firstFormThatIsKnownCounts(Checks c) {
+        byte[] six = new Bytes().two(6, 0, 0, 1, 1, 7).done();
+        byte[] other = new Bytes().two(6, 0, 0, 1, 1, 8).done();
+        for (int form = 0; form < 15; form++) {
+            if (form == 0 || form == 4 || form == 6 || form == 12) {
+                continue;
+            }
+            byte[] unknown = new Bytes().two(form, 0, 0, 1, 1, 5).done();
+            byte[] cmap = new Bytes().two(0, 3).two(0, 0).four(28).two(0, 0).four(40).two(0, 0).four(52)
+                    .all(unknown).all(six).all(other).done();
+            c.same("the first known one behind form " + form, withCmap(cmap).map(1), 7);
+        }
+        byte[] back = new Bytes().two(0, 2).two(0, 0).four(32).two(0, 0).four(20).all(six).all(other).done();
+        c.same("by the rows' order, not by the places", withCmap(back).map(1), 8);
+        byte[] second = new Bytes().two(0, 1).two(0, 0).four(4000).two(0, 0).four(20).all(six).done();
+        c.same("rows beyond how many", withCmap(second).map(1), 0);
+    }
+
+    private static void rowsThatArePast(Checks c) {
+        byte[] six = new Bytes().two(6, 0, 0, 1, 1, 7).done();
+        byte[] first = new Bytes().two(0, 2).two(0, 0).four(0xFFFFFFFFL).two(0, 0).four(20).all(six).done();
+        c.same("a first map that is past is of no form", withCmap(first).map(1), 7);
+        c.same("no cmap", new FontFile().table("maxp", FontFile.maxp(9)).read().map(1), 0);
+        c.same("an empty cmap", withCmap(new byte[0]).map(1), 0);
+        c.same("a cmap of 3 bytes", withCmap(new byte[] {0, 0, 0}).map(1), 0);
+        c.same("rows that are not there", withCmap(new Bytes().two(0, 65535, 0, 0).done()).map(1), 0);
+        byte[] noSigns = new Bytes().two(0, 1).two(0, 0).four(12).all(six).done();
+        c.same("no signs at all", new FontFile().table("cmap", noSigns).read().map(1), 0);
+    }
+}

@@ -1,0 +1,45 @@
+/** Promise 11: width. */
+public final class WidthTest {
+    public static void main(String[] args) {
+        Checks c = new Checks("WidthTest");
+        widths(c);
+        whatIsNotThere(c);
+        c.end();
+    }
+
+    private static FontFile file(int widths, byte[] hmtx) {
+        return new FontFile().table("maxp", FontFile.maxp(5)).table("hhea", FontFile.hhea(widths)).table("hmtx", hmtx);
+    }
+
+    private static void all(Checks c, String what, TrueOutlines x, int... due) {
+        for (int i = 0; i < due.length; i++) {
+            c.same(what + ": width(" + i + ")", x.width(i), due[i]);
+        }
+        int[] none = {-1, 5, 200, Integer.MIN_VALUE, Integer.MAX_VALUE};
+        for (int sign : none) {
+            c.same(what + ": width(" + sign + ")", x.width(sign), 0);
+        }
+    }
+
+    private static void widths(Checks c) {
+        byte[] hmtx = new Bytes().two(10, 1, 65535, 2, 300, 3, 7, 8, 9, 10, 11, 12).done();
+        all(c, "three widths", file(3, hmtx).read(), 10, 65535, 300, 300, 300);
+        all(c, "one width", file(1, hmtx).read(), 10, 10, 10, 10, 10);
+        all(c, "no widths", file(0, hmtx).read(), 0, 0, 0, 0, 0);
+        all(c, "five widths", file(5, hmtx).read(), 10, 65535, 300, 7, 9);
+        all(c, "more widths than signs", file(65535, hmtx).read(), 10, 65535, 300, 7, 9);
+    }
+
+    private static void whatIsNotThere(Checks c) {
+        byte[] cut = new Bytes().two(10, 1, 20, 2).one(3).done();
+        all(c, "hmtx is cut", file(3, cut).read(), 10, 20, 0, 0, 0);
+        byte[] enough = new Bytes().two(10, 1, 20).done();
+        all(c, "the last width without what is behind it", file(2, enough).read(), 10, 20, 20, 20, 20);
+        FontFile maxp = new FontFile().table("maxp", FontFile.maxp(5));
+        all(c, "no hhea", maxp.table("hmtx", enough).read(), 0, 0, 0, 0, 0);
+        byte[] shortHhea = java.util.Arrays.copyOf(FontFile.hhea(1), 35);
+        all(c, "hhea of 35 bytes", maxp.table("hhea", shortHhea).read(), 0, 0, 0, 0, 0);
+        FontFile noHmtx = new FontFile().table("maxp", FontFile.maxp(5)).table("hhea", FontFile.hhea(1));
+        all(c, "no hmtx", noHmtx.read(), 0, 0, 0, 0, 0);
+    }
+}
