@@ -113,14 +113,10 @@ public final class TrueOutlines {
     }
 
     public int run(int sign) {
-        boolean there = signs.has(sign);
         telling.clear();
-        shaper.clear();
-        if (there) {
-            shaper.shape(0, sign);
-        }
+        shaper.make(sign);
         pieces.trace(shaper.points());
-        return there ? pieces.size() : -1;
+        return signs.has(sign) ? pieces.size() : -1;
     }
 
     public int piece(int i, int what) throws IndexOutOfBoundsException {
@@ -822,11 +818,14 @@ public final class TrueOutlines {
             return points;
         }
 
-        void clear() {
+        void make(int sign) {
             points.keep(0, 0);
+            if (signs.has(sign)) {
+                shape(0, sign);
+            }
         }
 
-        void shape(int level, int sign) {
+        private void shape(int level, int sign) {
             if (level < 0 || level > DEEPEST) {
                 return;
             }
@@ -921,13 +920,17 @@ public final class TrueOutlines {
             }
         }
 
+        /** A simple SIGN yields the same at all levels, so that it is tried once. */
         private int yieldOf(int level, int sign) {
             Data data = levels[level];
             signs.open(sign, data);
             if (data.isEmpty()) {
                 return NOTHING;
             }
-            return data.hasParts() ? yieldOfParts(level, data) : yieldOfSimple(data);
+            if (data.hasParts()) {
+                return yieldOfParts(level, data);
+            }
+            return level < DEEPEST ? yieldAt(level + 1, sign) : yieldOfSimple(data);
         }
 
         private int yieldOfSimple(Data data) {

@@ -56,6 +56,9 @@ public final class CutTest {
         TrueOutlines y = FontFile.of(true, Sign.EMPTY, Sign.EMPTY,
                 Sign.composite(Sign.moved(9, 0, 0), Sign.moved(65535, 0, 0), Sign.moved(1, 0, 0))).read();
         c.same("parts that are no signs are passed over", y.cut(2), 2);
+        byte[] behind = new Bytes().all(Sign.composite(Sign.moved(1, 0, 0))).all(Sign.moved(0, 0, 0)).done();
+        TrueOutlines w = FontFile.of(true, Sign.EMPTY, Sign.EMPTY, behind).read();
+        c.same("what is behind the last part is none", w.cut(2), 2);
         byte[] simple = new Bytes().two(1).all(Arrays.copyOfRange(Sign.composite(Sign.moved(0, 0, 0)), 2, 16)).done();
         TrueOutlines z = FontFile.of(true, Sign.EMPTY, simple).read();
         c.same("no parts if the contours are 0 or more", z.cut(1), 1);

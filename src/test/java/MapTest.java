@@ -32,10 +32,10 @@ public final class MapTest {
     private static void form0(Checks c) {
         Bytes map = new Bytes().two(0, 262, 0);
         for (int i = 0; i < 256; i++) {
-            map.one(255 - i);
+            map.one((256 - i) % 256);
         }
         all(c, "form 0", withMap(map.two(0x0505).done()), new int[][] {
-            {0, 0}, {105, 0}, {106, 149}, {107, 148}, {254, 1}, {255, 0}, {256, 0}, {257, 0}, {-1, 0},
+            {0, 0}, {106, 0}, {107, 149}, {108, 148}, {254, 2}, {255, 1}, {256, 0}, {257, 0}, {-1, 0},
             {Integer.MIN_VALUE, 0}, {Integer.MAX_VALUE, 0}});
         all(c, "form 0, short", withMap(new Bytes().two(0, 0, 0).one(7, 8).done()),
                 new int[][] {{0, 7}, {1, 8}, {2, 0}, {255, 0}});
@@ -69,6 +69,10 @@ public final class MapTest {
         all(c, "form 4, the least k alone", withMap(twice.done()), new int[][] {{8, 0}, {9, 10}});
         Bytes notSorted = new Bytes().two(4, 0, 0, 4, 0, 0, 0).two(9, 5).two(0).two(3, 3).two(1, 2).two(0, 0);
         all(c, "form 4, not sorted", withMap(notSorted.done()), new int[][] {{5, 6}, {9, 10}});
+        Bytes zero = new Bytes().two(4, 0, 0, 2, 0, 0, 0).two(9).two(0).two(7).two(3).two(2).two(0, 1, 2);
+        all(c, "form 4, 0 in the row stays 0", withMap(zero.done()), new int[][] {{7, 0}, {8, 4}, {9, 5}});
+        Bytes beyond = new Bytes().two(4, 0, 0, 2, 0, 0, 0).two(5).two(65535).two(5).two(1).two(0).two(0);
+        all(c, "form 4, one segment alone", withMap(beyond.done()), new int[][] {{5, 6}, {9, 0}});
         Bytes none = new Bytes().two(4, 0, 0, 0, 0, 0, 0).two(9, 9, 9, 9);
         all(c, "form 4, no segments", withMap(none.done()), new int[][] {{0, 0}, {9, 0}});
         byte[] whole = new Bytes().two(4, 0, 0, 2, 0, 0, 0).two(9).two(0).two(8).two(0).two(2).two(7).done();
@@ -106,9 +110,14 @@ public final class MapTest {
             {99, 0}, {100, 1}, {109, 10}, {110, 55}, {120, 65}, {121, 0}, {70000, 148}, {70001, 149},
             {70002, 0}, {0, 0}, {Integer.MAX_VALUE, 3}, {-1, 0}});
         byte[] beyond = new Bytes().two(12, 0).four(0, 0, 0xFFFFFFFFL)
-                .four(5, 8, 149).four(6, 8, 1).four(10, 20, 0xFFFFFFFFL).four(30, 30, 2).four(40, 40).done();
+                .four(5, 8, 149).four(6, 8, 1).four(10, 20, 0xFFFFFFFFL).four(30, 30, 2).four(40, 50).done();
         all(c, "form 12, no signs, and past", withMap(beyond), new int[][] {
-            {5, 149}, {6, 0}, {10, 0}, {11, 0}, {12, 0}, {30, 2}, {40, 0}, {41, 0}});
+            {5, 149}, {6, 0}, {10, 0}, {11, 0}, {12, 0}, {30, 2}, {40, 0}, {41, 0}, {43, 0}});
+        byte[] group = new Bytes().two(12, 0).four(0, 0, 1).four(40, 50, 1).done();
+        for (int size = 2; size <= group.length; size++) {
+            byte[] part = java.util.Arrays.copyOf(group, size);
+            c.same("form 12 of " + size + " bytes", withMap(part).map(43), size == group.length ? 4 : 0);
+        }
         c.same("form 12, no how many", withMap(new Bytes().two(12, 0).four(0, 0).two(0).done()).map(0), 0);
     }
 

@@ -6,6 +6,8 @@ public final class RunManyPartsTest {
         partsInACircle(c);
         pointsBehindACircle(c);
         joinedEmptyParts(c);
+        pointsBehindAllThatIsTold(c);
+        pointsAtEveryLevel(c);
         c.end();
     }
 
@@ -53,6 +55,59 @@ public final class RunManyPartsTest {
         c.same("circles with points", x.run(0), 120);
         c.same("how many are told", x.told(-1, 0), 100);
         c.same("the place of the first points", x.piece(0, 2), 6);
+    }
+
+    /** SIGN 8 tells a hundred left out, and then has a chain of PARTS, down to SIGN 2, and others. */
+    private static void pointsBehindAllThatIsTold(Checks c) {
+        byte[][] signs = new byte[9][];
+        signs[0] = Sign.row(1);
+        signs[1] = Sign.row(60);
+        signs[2] = Sign.composite(Sign.moved(0, 1, 1), Sign.moved(1, 1, 1));
+        for (int i = 3; i < 6; i++) {
+            signs[i] = Sign.composite(Sign.moved(i - 1, 1, 1));
+        }
+        signs[6] = new byte[3];
+        signs[7] = new Bytes().all(Sign.composite(Sign.moved(1, 0, 0), Sign.moved(0, 0, 0))).done();
+        signs[7][11] |= 32;
+        signs[7][17] |= 32;
+        byte[][] parts = new byte[107][];
+        java.util.Arrays.fill(parts, Sign.moved(900, 0, 0));
+        parts[100] = Sign.moved(5, 10, 20);
+        parts[101] = Sign.moved(6, 0, 0);
+        parts[102] = Sign.moved(7, 0, 0);
+        parts[103] = Sign.moved(1, 0, 0);
+        parts[104] = Sign.moved(0, 0, 0);
+        parts[105] = Sign.moved(1, 7, 0);
+        parts[106] = Sign.moved(3, 9, 0);
+        signs[8] = Sign.composite(parts);
+        TrueOutlines x = FontFile.of(true, signs).read();
+        c.same("run(8)", x.run(8), 60);
+        c.same("how many are told", x.told(-1, 0), 100);
+        c.same("points: 1, 60; none; none; none; 1; none; 1", x.count(3), 63);
+        c.same("contours", x.count(4), 4);
+        c.piece("in five", x, 0, 1, 0, 2 * 15 - 2, 2 * 25 - 2);
+    }
+
+    /** SIGN 7 tells a hundred left out, and then has one POINT at each of the five levels. */
+    private static void pointsAtEveryLevel(Checks c) {
+        byte[][] signs = new byte[8][];
+        signs[0] = Sign.row(60);
+        signs[1] = Sign.row(61);
+        signs[2] = Sign.row(1);
+        signs[3] = Sign.composite(Sign.moved(2, 0, 0));
+        for (int i = 4; i < 7; i++) {
+            signs[i] = Sign.composite(Sign.moved(i - 1, 0, 0), Sign.moved(2, 0, 0));
+        }
+        byte[][] parts = new byte[102][];
+        java.util.Arrays.fill(parts, Sign.moved(900, 0, 0));
+        parts[100] = Sign.moved(6, 0, 0);
+        parts[101] = Sign.moved(2, 0, 0);
+        signs[7] = Sign.composite(parts);
+        TrueOutlines x = FontFile.of(true, signs).read();
+        c.same("run(7)", x.run(7), 0);
+        c.same("how many are told", x.told(-1, 0), 100);
+        c.same("count(3)", x.count(3), 5);
+        c.same("count(4)", x.count(4), 5);
     }
 
     private static void joinedEmptyParts(Checks c) {

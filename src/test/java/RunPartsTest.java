@@ -6,6 +6,7 @@ public final class RunPartsTest {
         Checks c = new Checks("RunPartsTest");
         numbers(c);
         scales(c);
+        scalesOfOnePartAlone(c);
         rounding(c);
         wrapping(c);
         joining(c);
@@ -54,6 +55,20 @@ public final class RunPartsTest {
                 60, 50, -10, -1);
         two(c, "128, moved behind", new Bytes().two(3 + 128, 0, 1000, 2000).two(0, 16384, 16384, 0).done(),
                 1040, 2100, 1007, 1997);
+    }
+
+    private static void scalesOfOnePartAlone(Checks c) {
+        byte[] turned = new Bytes().two(2 + 128, 0).one(0, 0).two(0, 16384, -16384, 0).done();
+        byte[] half = new Bytes().two(2 + 8, 0).one(0, 0).two(8192).done();
+        byte[] halves = new Bytes().two(2 + 64, 0).one(0, 0).two(8192, 8192).done();
+        int[] line = {100, 40, Sign.ON, 20, 60, Sign.ON};
+        TrueOutlines x = FontFile.of(true, Sign.simple(line),
+                Sign.composite(turned, Sign.moved(0, 0, 0), turned, half, turned, halves)).read();
+        c.same("run(1)", x.run(1), 12);
+        c.piece("turned", x, 0, 0, 0, -80, 200, 0, 0, -120, 40);
+        c.piece("as it is", x, 2, 1, 0, 200, 80, 0, 0, 40, 120);
+        c.piece("half", x, 6, 3, 0, 100, 40, 0, 0, 20, 60);
+        c.piece("halves", x, 10, 5, 0, 100, 40, 0, 0, 20, 60);
     }
 
     private static void rounding(Checks c) {
@@ -248,5 +263,13 @@ public final class RunPartsTest {
         c.same("count(4)", x.count(4), 4);
         c.same("the contour of the first piece", x.piece(0, 0), 1);
         c.same("the contour of the last piece", x.piece(3, 0), 3);
+        TrueOutlines y = FontFile.of(true, Sign.simple(dot),
+                Sign.composite(Sign.moved(0, 0, 0), Sign.moved(0, 0, 0))).read();
+        c.same("parts of one point have no pieces", y.run(1), 0);
+        c.same("count(3)", y.count(3), 2);
+        c.same("count(4)", y.count(4), 2);
+        TrueOutlines z = FontFile.of(true, Sign.row(2),
+                new Bytes().all(Sign.composite(Sign.moved(0, 0, 0))).all(Sign.moved(0, 0, 0)).done()).read();
+        c.same("what is behind the last part is none", z.run(1), 2);
     }
 }

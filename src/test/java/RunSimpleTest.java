@@ -14,6 +14,7 @@ public final class RunSimpleTest {
         everyByteIsNeeded(c);
         pointsAtMost(c);
         places(c);
+        everyByteOfLocaIsNeeded(c);
         noSuchSign(c);
         wrapping(c);
         c.end();
@@ -190,6 +191,21 @@ public final class RunSimpleTest {
                 .table("loca", new Bytes().two(0, 9).done()).read();
         c.same("without glyf", noGlyf.run(0), 0);
         c.told("without glyf", noGlyf, 1, 0);
+    }
+
+    private static void everyByteOfLocaIsNeeded(Checks c) {
+        byte[] fours = new Bytes().four(0, 18).done();
+        for (int size = 0; size <= fours.length; size++) {
+            TrueOutlines x = withLoca(FontFile.head(1, 1), Arrays.copyOf(fours, size), 1);
+            c.same("loca of " + size + " bytes, by four", x.run(0), size == 8 ? 2 : 0);
+            c.same("told", x.told(-1, 0), size == 8 ? 0 : 1);
+        }
+        byte[] twos = new Bytes().two(0, 9).done();
+        for (int size = 0; size <= twos.length; size++) {
+            TrueOutlines x = withLoca(FontFile.head(1, 0), Arrays.copyOf(twos, size), 1);
+            c.same("loca of " + size + " bytes, by two", x.run(0), size == 4 ? 2 : 0);
+            c.same("told", x.told(-1, 0), size == 4 ? 0 : 1);
+        }
     }
 
     private static void noSuchSign(Checks c) {

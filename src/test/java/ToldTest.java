@@ -34,6 +34,8 @@ public final class ToldTest {
         x.write();
         x.map(0);
         c.told("still", x, 1, 1);
+        x.read();
+        c.told("by read() behind a run()", x, 2, 4);
         x.run(0);
         c.told("by run() of a good one", x);
         x.read();

@@ -4,6 +4,7 @@ public final class WidthTest {
         Checks c = new Checks("WidthTest");
         widths(c);
         whatIsNotThere(c);
+        atTheFilesBeginning(c);
         c.end();
     }
 
@@ -28,6 +29,17 @@ public final class WidthTest {
         all(c, "no widths", file(0, hmtx).read(), 0, 0, 0, 0, 0);
         all(c, "five widths", file(5, hmtx).read(), 10, 65535, 300, 7, 9);
         all(c, "more widths than signs", file(65535, hmtx).read(), 10, 65535, 300, 7, 9);
+    }
+
+    /** maxp and hmtx lie over the file's first bytes: 1, 0, 3, 0, .. */
+    private static void atTheFilesBeginning(Checks c) {
+        TrueOutlines x = new TrueOutlines();
+        FontFile.fill(x, new Bytes().four(65536).two(3, 0, 0, 0).text("maxp").four(0, 0, 6)
+                .text("hmtx").four(0, 0, 12).text("hhea").four(0, 60, 36).all(FontFile.hhea(2)).done());
+        c.same("read()", x.read(), 3);
+        c.same("width(0)", x.width(0), 1);
+        c.same("width(1)", x.width(1), 3);
+        c.same("width(3)", x.width(3), 0);
     }
 
     private static void whatIsNotThere(Checks c) {

@@ -12,6 +12,8 @@ public final class WriteTest {
         tagsAsBytes(c);
         noSigns(c);
         sizeAtMost(c);
+        sizeOfLoca(c);
+        farPlaces(c);
         twoHundredSigns(c);
         whatMustBeThere(c);
         whatWasWrittenStays(c);
@@ -162,6 +164,42 @@ public final class WriteTest {
         FontFile.fill(z, full);
         c.same("read()", z.read(), 7);
         c.same("2401, and zeros", z.write(), -1);
+    }
+
+    /** The other TABLES leave 400 bytes, or 200, so that the length of loca decides. */
+    private static void sizeOfLoca(Checks c) {
+        for (int form = 0; form < 2; form++) {
+            int loca = form == 1 ? 400 : 200;
+            int other = (2400 - 12 - 6 * 16 - 52 - 8 - loca) / 2 / 4 * 4;
+            for (int signs = 98; signs < 102; signs++) {
+                byte[] file = new Bytes().four(65536).two(6).two(1, 2, 3)
+                        .text("head").four(0, 108, 52).text("maxp").four(0, 160, 6).text("loca").four(0, 0, 0)
+                        .text("glyf").four(0, 0, 0).text("aaaa").four(0, 0, other).text("bbbb").four(0, 0, other)
+                        .all(Arrays.copyOf(FontFile.head(1, form), 52)).all(FontFile.maxp(signs)).done();
+                TrueOutlines x = new TrueOutlines();
+                FontFile.fill(x, Arrays.copyOf(file, 1200));
+                c.same("read()", x.read(), 6);
+                int size = (form == 1 ? 4 : 2) * (signs + 1);
+                int due = 12 + 6 * 16 + 52 + 8 + 2 * other + (size + 3) / 4 * 4;
+                c.same(signs + " signs of form " + form, x.write(), due > 2400 ? -1 : due);
+            }
+        }
+    }
+
+    private static void farPlaces(Checks c) {
+        byte[] sign = new byte[700];
+        sign[699] = 9;
+        byte[] glyf = new Bytes().all(sign).all(Sign.row(2)).done();
+        TrueOutlines x = FontFile.of(false, sign, Sign.row(2)).read();
+        x.cut(0);
+        x.cut(1);
+        compare(c, "places beyond 255, in two bytes", x, "glyf", glyf, "head", FontFile.head(1000, 0),
+                "loca", new Bytes().two(0, 350, 359).done(), "maxp", FontFile.maxp(2));
+        TrueOutlines y = FontFile.of(true, sign, Sign.row(2)).read();
+        y.cut(0);
+        y.cut(1);
+        compare(c, "places beyond 255, in four bytes", y, "glyf", glyf, "head", FontFile.head(1000, 1),
+                "loca", new Bytes().four(0, 700, 718).done(), "maxp", FontFile.maxp(2));
     }
 
     private static void twoHundredSigns(Checks c) {
