@@ -1061,10 +1061,10 @@ public final class TrueOutlines {
             int rows = cmap.two(2);
             for (int k = 0; k < rows; k++) {
                 start = cmap.four(4 + 8L * k + 4);
-                if (start == PAST) {
+                int form = start == PAST ? PAST : two(0);
+                if (form == PAST) {
                     return 0;
                 }
-                int form = two(0);
                 if (form == 0 || form == 4 || form == 6 || form == 12) {
                     return findBy(form, code);
                 }

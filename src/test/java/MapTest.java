@@ -10,6 +10,7 @@ public final class MapTest {
         form6(c);
         form12(c);
         firstFormThatIsKnownCounts(c);
+        formsThatArePast(c);
         rowsThatArePast(c);
         c.end();
     }
@@ -139,10 +140,34 @@ public final class MapTest {
         c.same("rows beyond how many", withCmap(second).map(1), 0);
     }
 
+    /** As many rows as places; behind them a MAP of FORM 6 (code 1 is SIGN 7), and a TWO of no FORM. */
+    private static TrueOutlines withPlaces(long... places) {
+        Bytes cmap = new Bytes().two(0, places.length);
+        for (long place : places) {
+            cmap.two(0, 0).four(place);
+        }
+        return withCmap(cmap.two(6, 0, 0, 1, 1, 7).two(5).done());
+    }
+
+    private static void formsThatArePast(Checks c) {
+        int six = 4 + 8 * 2;
+        int end = six + 14;
+        c.same("a form in the last two bytes is there", withPlaces(end - 2, six).map(1), 7);
+        long[] past = {end - 1, end, end + 1, 1000, 0x7FFFFFFFL, 0x80000000L, 0xFFFFFFFEL, 0xFFFFFFFFL};
+        for (long place : past) {
+            c.same("a first form past, at " + place, withPlaces(place, six).map(1), 0);
+            c.same("a form past behind the one that counts, at " + place, withPlaces(six, place).map(1), 7);
+            c.same("a form past alone, at " + place, withPlaces(place).map(1), 0);
+        }
+        int sixOfThree = 4 + 8 * 3;
+        c.same("no known form, past, then a known one",
+                withPlaces(sixOfThree + 12, 1000, sixOfThree).map(1), 0);
+        c.same("no known form twice, then a known one",
+                withPlaces(sixOfThree + 12, sixOfThree + 12, sixOfThree).map(1), 7);
+    }
+
     private static void rowsThatArePast(Checks c) {
         byte[] six = new Bytes().two(6, 0, 0, 1, 1, 7).done();
-        byte[] first = new Bytes().two(0, 2).two(0, 0).four(0xFFFFFFFFL).two(0, 0).four(20).all(six).done();
-        c.same("a first map that is past is of no form", withCmap(first).map(1), 7);
         c.same("no cmap", new FontFile().table("maxp", FontFile.maxp(9)).read().map(1), 0);
         c.same("an empty cmap", withCmap(new byte[0]).map(1), 0);
         c.same("a cmap of 3 bytes", withCmap(new byte[] {0, 0, 0}).map(1), 0);
