@@ -804,7 +804,10 @@ public final class TrueOutlines {
         private final Points tried = new Points();
         private final Data[] levels = new Data[DEEPEST + 1];
         private final int[] opened = new int[DEEPEST + 1];
+        private final int[] openings = new int[DEEPEST + 1];
         private final int[] yields = new int[(DEEPEST + 1) * SIGNS_MOST];
+        private final int[] barren = new int[(DEEPEST + 1) * SIGNS_MOST];
+        private int lastOpening;
 
         Shaper(Row file, Signs signs, Telling telling) {
             this.signs = signs;
@@ -835,6 +838,8 @@ public final class TrueOutlines {
                 return;
             }
             opened[level] = sign;
+            lastOpening++;
+            openings[level] = lastOpening;
             int oldPoints = points.size();
             int oldContours = points.contours();
             boolean good = data.hasParts() ? shapeParts(level, data) : points.take(data);
@@ -863,8 +868,10 @@ public final class TrueOutlines {
                 return;
             }
             int start = points.size();
+            boolean silent = telling.isFull();
             if (matters(level + 1, part.sign)) {
                 shape(level + 1, part.sign);
+                keepIfBarren(level + 1, part.sign, silent && points.size() == start);
             }
             points.scale(start, part);
             if (part.isMoved()) {
@@ -897,18 +904,38 @@ public final class TrueOutlines {
         }
 
         /**
-         * Whether a SIGN can still change anything. DATA that overlap hold some hundred PARTS in each of
-         * five levels, far more than can be gone through one by one; those that bring no POINTS and of
-         * which nothing is TOLD are passed over.
+         * Whether a PART at this level can still change anything. DATA that overlap hold some hundred
+         * PARTS in each of five levels, far more than can be gone through one by one; those that bring no
+         * POINTS and of which nothing is TOLD are passed over.
          */
         private boolean matters(int level, int sign) {
-            int least = yieldAt(level, sign);
-            return telling.isFull() ? least <= POINTS_MOST - points.size() : least < NOTHING;
+            int cell = cellOf(level, sign);
+            if (cell < 0) {
+                return false;
+            }
+            if (!telling.isFull()) {
+                return yields[cell] < NOTHING;
+            }
+            return yields[cell] <= POINTS_MOST - points.size() && barren[cell] != openings[level - 1];
+        }
+
+        /** What brought nothing when no more could be TOLD brings nothing again in the same opening. */
+        private void keepIfBarren(int level, int sign, boolean isBarren) {
+            int cell = cellOf(level, sign);
+            if (isBarren && cell >= 0) {
+                barren[cell] = openings[level - 1];
+            }
+        }
+
+        /** Where a PART of a level stands in yields and barren; below 0 if it stands nowhere. */
+        private int cellOf(int level, int sign) {
+            boolean known = level > 0 && level <= DEEPEST && signs.has(sign);
+            return known ? level * SIGNS_MOST + sign : -1;
         }
 
         private int yieldAt(int level, int sign) {
-            boolean known = level >= 0 && level <= DEEPEST && signs.has(sign);
-            return known ? yields[level * SIGNS_MOST + sign] : TELLS;
+            int cell = cellOf(level, sign);
+            return cell < 0 ? TELLS : yields[cell];
         }
 
         /** Finds the yields: the least number of POINTS above 0 that one simple SIGN in a SIGN has. */

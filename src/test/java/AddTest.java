@@ -3,8 +3,11 @@ public final class AddTest {
     public static void main(String[] args) {
         Checks c = new Checks("AddTest");
         lowestBytesComeFirst(c);
+        everyNumberOfBytes(c);
         wrongNumbersChangeNothing(c);
         fileIsFullAt1600(c);
+        fullByEights(c);
+        refusedBytesAreNotThere(c);
         c.end();
     }
 
@@ -24,6 +27,59 @@ public final class AddTest {
         for (int i = 0; i < due.length; i++) {
             c.same("octet(0, " + i + ")", x.octet(0, i), due[i]);
         }
+    }
+
+    /** A TABLE over the whole file, so that octet() tells all of its bytes. */
+    private static TrueOutlines overItself(int size) {
+        TrueOutlines x = new TrueOutlines();
+        FontFile.fill(x, new Bytes().four(65536).two(1, 0, 0, 0).text("abcd").four(0, 0, size).done());
+        return x;
+    }
+
+    private static void everyNumberOfBytes(Checks c) {
+        long w = 0xF8E7_D6C5_B4A3_9281L;
+        for (int n = 1; n <= 8; n++) {
+            TrueOutlines x = overItself(28 + n);
+            c.same("add(w, " + n + ")", x.add(w, n), 28 + n);
+            c.same("read()", x.read(), 1);
+            for (int i = 0; i < n; i++) {
+                c.same("byte " + i + " of " + n, x.octet(0, 28 + i), w >> 8 * i & 255);
+            }
+        }
+    }
+
+    private static void refusedBytesAreNotThere(Checks c) {
+        TrueOutlines x = overItself(1600);
+        c.same("add of none", x.add(-1, 0), -1);
+        c.same("add of nine", x.add(-1, 9), -1);
+        for (int i = 28; i < 1596; i += 8) {
+            x.add(0x0102030405060708L, 8);
+        }
+        c.same("read() of 1596 bytes", x.read(), -1);
+        c.same("four and one more", x.add(-1, 5), -1);
+        c.same("read() is as before", x.read(), -1);
+        c.same("four", x.add(0x21222324L, 4), 1600);
+        c.same("no more", x.add(-1, 1), -1);
+        c.same("read() of 1600 bytes", x.read(), 1);
+        c.same("the first one behind what was refused", x.octet(0, 28), 8);
+        c.same("the last of the eights", x.octet(0, 1595), 1);
+        c.same("the first of the four", x.octet(0, 1596), 0x24);
+        c.same("the last of the four", x.octet(0, 1599), 0x21);
+    }
+
+    private static void fullByEights(Checks c) {
+        TrueOutlines x = new TrueOutlines();
+        for (int i = 1; i < 200; i++) {
+            x.add(0, 8);
+        }
+        c.same("the last eight", x.add(0, 8), 1600);
+        TrueOutlines y = new TrueOutlines();
+        y.add(0, 1);
+        for (int i = 1; i < 200; i++) {
+            y.add(0, 8);
+        }
+        c.same("eight behind 1593", y.add(0, 8), -1);
+        c.same("seven behind 1593", y.add(0, 7), 1600);
     }
 
     private static void wrongNumbersChangeNothing(Checks c) {

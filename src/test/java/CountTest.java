@@ -3,6 +3,7 @@ public final class CountTest {
     public static void main(String[] args) {
         Checks c = new Checks("CountTest");
         ofAFile(c);
+        ofRunsWithoutPoints(c);
         signs(c);
         c.end();
     }
@@ -32,6 +33,24 @@ public final class CountTest {
         for (int what : others) {
             c.same("count(" + what + ")", x.count(what), -1);
         }
+    }
+
+    private static void ofRunsWithoutPoints(Checks c) {
+        int[] dot = {9, 9, Sign.ON};
+        TrueOutlines x = FontFile.of(true, Sign.row(3), Sign.EMPTY, new byte[3], Sign.simple(dot)).read();
+        for (int sign = 1; sign < 3; sign++) {
+            x.run(0);
+            c.same("count(3)", x.count(3), 3);
+            x.run(sign);
+            c.same("count(3) of an empty or bad one", x.count(3), 0);
+            c.same("count(4) of an empty or bad one", x.count(4), 0);
+        }
+        c.same("run(3)", x.run(3), 0);
+        c.same("count(3) without pieces", x.count(3), 1);
+        c.same("count(4) without pieces", x.count(4), 1);
+        x.cut(3);
+        x.cut(9);
+        c.same("count(2) behind a cut() that is refused", x.count(2), 1);
     }
 
     private static int signsOf(byte[] maxp) {

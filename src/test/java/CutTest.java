@@ -9,7 +9,10 @@ public final class CutTest {
         circle(c);
         partsWhoseBytesAreThere(c);
         signsThatAreBad(c);
+        partsBeyondTheData(c);
+        everyKindOfPart(c);
         noSuchSign(c);
+        twoHundredSigns(c);
         c.end();
     }
 
@@ -70,6 +73,46 @@ public final class CutTest {
         TrueOutlines y = new FontFile().table("maxp", FontFile.maxp(3)).read();
         c.same("without loca and glyf", y.cut(2), 1);
         c.same("cut(0)", y.cut(0), 2);
+    }
+
+    /** The second place of SIGN 2 is beyond glyf: its PARTS are used up to the end of glyf. */
+    private static void partsBeyondTheData(Checks c) {
+        byte[] glyf = Sign.composite(Sign.moved(0, 0, 0), Sign.moved(1, 0, 0));
+        for (int size = 15; size <= glyf.length; size++) {
+            TrueOutlines x = new FontFile().table("head", FontFile.head(1, 1)).table("maxp", FontFile.maxp(3))
+                    .table("loca", new Bytes().four(0, 0, 0, 1000).done())
+                    .table("glyf", Arrays.copyOf(glyf, size)).read();
+            c.same("cut(2), glyf of " + size, x.cut(2), 1 + (size >= 16 ? 1 : 0) + (size >= 22 ? 1 : 0));
+        }
+        TrueOutlines back = new FontFile().table("head", FontFile.head(1, 1)).table("maxp", FontFile.maxp(3))
+                .table("loca", new Bytes().four(0, 0, 22, 0).done()).table("glyf", glyf).read();
+        c.same("the wrong way round", back.cut(2), 1);
+        TrueOutlines empty = new FontFile().table("head", FontFile.head(1, 1)).table("maxp", FontFile.maxp(3))
+                .table("loca", new Bytes().four(1, 1, 0, 0).done()).table("glyf", glyf).read();
+        c.same("an empty one", empty.cut(2), 1);
+    }
+
+    /** PARTS of all lengths, so that the next one is found behind each. */
+    private static void everyKindOfPart(Checks c) {
+        byte[][] kinds = {Sign.moved(0, 9, 9), Sign.joined(0, 255, 255), new Bytes().two(1, 0, 9, 9).done(),
+            new Bytes().two(2 + 8, 0).one(9, 9).two(9).done(),
+            new Bytes().two(2 + 64, 0).one(9, 9).two(9, 9).done(),
+            new Bytes().two(2 + 128, 0).one(9, 9).two(9, 9, 9, 9).done(),
+            new Bytes().two(3 + 8 + 64 + 128, 0).two(9, 9).two(9).done(),
+            new Bytes().two(3 + 64 + 128, 0).two(9, 9).two(9, 9).done()};
+        for (int i = 0; i < kinds.length; i++) {
+            TrueOutlines x = FontFile.of(true, Sign.EMPTY, Sign.EMPTY,
+                    Sign.composite(kinds[i], Sign.moved(1, 0, 0))).read();
+            c.same("a part behind one of kind " + i, x.cut(2), 3);
+        }
+    }
+
+    private static void twoHundredSigns(Checks c) {
+        TrueOutlines x = new FontFile().table("maxp", FontFile.maxp(500)).read();
+        c.same("cut(199)", x.cut(199), 1);
+        c.same("cut(200), which is no sign any more", x.cut(200), -1);
+        TrueOutlines y = new FontFile().table("abcd", new byte[1]).read();
+        c.same("cut(0) without signs", y.cut(0), -1);
     }
 
     private static void noSuchSign(Checks c) {

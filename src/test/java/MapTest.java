@@ -9,9 +9,13 @@ public final class MapTest {
         form4Edges(c);
         form6(c);
         form12(c);
+        mapsWithoutCodes(c);
+        codesBelowNone(c);
         firstFormThatIsKnownCounts(c);
+        asManyRowsAsAreTold(c);
         formsThatArePast(c);
         rowsThatArePast(c);
+        mapsThatLieOverRows(c);
         c.end();
     }
 
@@ -74,6 +78,13 @@ public final class MapTest {
         all(c, "form 4, 0 in the row stays 0", withMap(zero.done()), new int[][] {{7, 0}, {8, 4}, {9, 5}});
         Bytes beyond = new Bytes().two(4, 0, 0, 2, 0, 0, 0).two(5).two(65535).two(5).two(1).two(0).two(0);
         all(c, "form 4, one segment alone", withMap(beyond.done()), new int[][] {{5, 6}, {9, 0}});
+        Bytes far = new Bytes().two(4, 0, 0, 2, 0, 0, 0).two(9).two(0).two(7).two(1).two(4).two(5, 6, 8);
+        all(c, "form 4, a row that ends before the codes do", withMap(far.done()),
+                new int[][] {{6, 0}, {7, 7}, {8, 9}, {9, 0}});
+        Bytes farther = new Bytes().two(4, 0, 0, 2, 0, 0, 0).two(9).two(0).two(7).two(1).two(65535).two(5, 6, 8);
+        all(c, "form 4, a row far beyond", withMap(farther.done()), new int[][] {{7, 0}, {8, 0}, {9, 0}});
+        Bytes lastSign = new Bytes().two(4, 0, 0, 2, 0, 0, 0).two(9).two(0).two(7).two(0).two(2).two(148, 149, 150);
+        all(c, "form 4, the last sign of a row", withMap(lastSign.done()), new int[][] {{7, 148}, {8, 149}, {9, 0}});
         Bytes none = new Bytes().two(4, 0, 0, 0, 0, 0, 0).two(9, 9, 9, 9);
         all(c, "form 4, no segments", withMap(none.done()), new int[][] {{0, 0}, {9, 0}});
         byte[] whole = new Bytes().two(4, 0, 0, 2, 0, 0, 0).two(9).two(0).two(8).two(0).two(2).two(7).done();
@@ -136,8 +147,58 @@ public final class MapTest {
         }
         byte[] back = new Bytes().two(0, 2).two(0, 0).four(32).two(0, 0).four(20).all(six).all(other).done();
         c.same("by the rows' order, not by the places", withCmap(back).map(1), 8);
-        byte[] second = new Bytes().two(0, 1).two(0, 0).four(4000).two(0, 0).four(20).all(six).done();
-        c.same("rows beyond how many", withCmap(second).map(1), 0);
+    }
+
+    private static void asManyRowsAsAreTold(Checks c) {
+        for (int told = 0; told < 4; told++) {
+            Bytes cmap = new Bytes().two(0, told).two(0, 0).four(28).two(0, 0).four(28).two(0, 0).four(30);
+            TrueOutlines x = withCmap(cmap.two(2).two(6, 0, 0, 1, 1, 7).done());
+            c.same("the third row of " + told, x.map(1), told < 3 ? 0 : 7);
+        }
+        Bytes many = new Bytes().two(0, 256).two(0, 0).four(12).two(6, 0, 0, 1, 1, 7);
+        c.same("256 rows, of which the first one counts", withCmap(many.done()).map(1), 7);
+    }
+
+    private static void mapsThatLieOverRows(Checks c) {
+        byte[] cmap = new Bytes().two(0, 1).two(6, 0).four(4).two(5, 1, 9).done();
+        all(c, "a map that begins with its own row", withCmap(cmap), new int[][] {{3, 0}, {4, 1}, {5, 9}, {6, 0}});
+        byte[] zero = new Bytes().two(0, 1).two(0, 0).four(0).one(3, 4).done();
+        all(c, "form 0 over the rows", withCmap(zero), new int[][] {{0, 0}, {6, 3}, {7, 4}, {8, 0}});
+    }
+
+    private static void mapsWithoutCodes(Checks c) {
+        all(c, "form 6, how many is 0", withMap(new Bytes().two(6, 0, 0, 5, 0, 7).done()),
+                new int[][] {{4, 0}, {5, 0}, {6, 0}});
+        all(c, "form 12, how many is 0", withMap(new Bytes().two(12, 0).four(0, 0, 0, 5, 9, 7).done()),
+                new int[][] {{4, 0}, {5, 0}, {9, 0}});
+        all(c, "form 12, the last code is before the first", withMap(
+                new Bytes().two(12, 0).four(0, 0, 2).four(9, 5, 7).four(9, 9, 3).done()),
+                new int[][] {{4, 0}, {5, 0}, {7, 0}, {9, 3}});
+        all(c, "form 12, only as many as are told", withMap(
+                new Bytes().two(12, 0).four(0, 0, 1).four(1, 2, 7).four(3, 4, 9).done()),
+                new int[][] {{1, 7}, {2, 8}, {3, 0}});
+        all(c, "form 0 without bytes", withMap(new Bytes().two(0, 0, 0).done()), new int[][] {{0, 0}, {255, 0}});
+        all(c, "form 0, all bytes to the end", withMap(new Bytes().two(0, 0, 0).one(1).done()),
+                new int[][] {{0, 1}, {1, 0}});
+    }
+
+    /** What stands before the place of code 0 would be found, were a code below 0 looked for. */
+    private static void codesBelowNone(Checks c) {
+        int[] below = {-1, -2, -3, -256, -65536, Integer.MIN_VALUE};
+        Bytes zero = new Bytes().two(0, 0x0101, 0x0101).one(1, 1, 1);
+        Bytes six = new Bytes().two(6, 1, 1, 0, 9, 1, 1, 1);
+        Bytes twelve = new Bytes().two(12, 0).four(0, 0, 1).four(0, 0xFFFFFFFFL, 1);
+        Bytes four = new Bytes().two(4, 0, 0, 2, 0, 0, 0).two(65535).two(0).two(0).two(3).two(0);
+        for (int code : below) {
+            c.same("form 0: map(" + code + ")", withMap(zero.done()).map(code), 0);
+            c.same("form 4: map(" + code + ")", withMap(four.done()).map(code), 0);
+            c.same("form 6: map(" + code + ")", withMap(six.done()).map(code), 0);
+            c.same("form 12: map(" + code + ")", withMap(twelve.done()).map(code), 0);
+        }
+        c.same("form 0: map(0)", withMap(zero.done()).map(0), 1);
+        c.same("form 4: map(0)", withMap(four.done()).map(0), 3);
+        c.same("form 6: map(0)", withMap(six.done()).map(0), 1);
+        c.same("form 12: map(0)", withMap(twelve.done()).map(0), 1);
     }
 
     /** As many rows as places; behind them a MAP of FORM 6 (code 1 is SIGN 7), and a TWO of no FORM. */

@@ -11,6 +11,7 @@ public final class NewObjectTest {
     public static void main(String[] args) {
         Checks c = new Checks("NewObjectTest");
         nothingIsThere(c);
+        bytesThatAreNotRead(c);
         objectsAreApart(c);
         faceIsThatOfTheDocument(c);
         c.end();
@@ -18,6 +19,20 @@ public final class NewObjectTest {
 
     private static void nothingIsThere(Checks c) {
         TrueOutlines x = new TrueOutlines();
+        nothingIsRead(c, x);
+        c.same("read()", x.read(), -1);
+        c.same("add(1, 1)", x.add(1, 1), 1);
+    }
+
+    private static void bytesThatAreNotRead(Checks c) {
+        TrueOutlines x = new TrueOutlines();
+        FontFile.fill(x, FontFile.of(Sign.row(2)).bytes());
+        nothingIsRead(c, x);
+        c.same("read()", x.read(), 4);
+        c.same("run(0) of what is read", x.run(0), 2);
+    }
+
+    private static void nothingIsRead(Checks c, TrueOutlines x) {
         for (int what = 0; what < 5; what++) {
             c.same("count(" + what + ")", x.count(what), 0);
         }
@@ -34,8 +49,6 @@ public final class NewObjectTest {
         c.fails("octet(0, 0)", ArrayIndexOutOfBoundsException.class, () -> x.octet(0, 0));
         c.fails("piece(0, 0)", IndexOutOfBoundsException.class, () -> x.piece(0, 0));
         c.fails("told(0, 0)", IndexOutOfBoundsException.class, () -> x.told(0, 0));
-        c.same("read()", x.read(), -1);
-        c.same("add(1, 1)", x.add(1, 1), 1);
     }
 
     private static void objectsAreApart(Checks c) {

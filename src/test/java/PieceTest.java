@@ -10,10 +10,13 @@ public final class PieceTest {
         curves(c);
         firstOnIsNotFirst(c);
         noneIsOn(c);
+        middles(c);
         smallContours(c);
         severalContours(c);
         wrapping(c);
         wrongNumbers(c);
+        withoutPieces(c);
+        allOfAFullSign(c);
         c.end();
     }
 
@@ -83,6 +86,19 @@ public final class PieceTest {
         c.piece("of the last contour", x, 4, 3, 1, 6, 6, 4, 4, 6, 6);
     }
 
+    /** The middle of POINTS whose numbers are odd or below 0 is a whole number of halves. */
+    private static void middles(Checks c) {
+        TrueOutlines x = run(c, 3, new int[] {-1, -2, OFF, -4, 3, OFF, 0, 0, OFF});
+        c.piece("from the middle of the last and the first", x, 0, 0, 1, -1, -2, -2, -4, -5, 1);
+        c.piece("middle of odd and even", x, 1, 0, 1, -5, 1, -8, 6, -4, 3);
+        c.piece("back to where it began", x, 2, 0, 1, -4, 3, 0, 0, -1, -2);
+        TrueOutlines y = run(c, 4, new int[] {0, 0, ON, 1, 1, OFF, 3, 2, OFF, 4, 0, ON, 9, 9, ON});
+        c.piece("on, off", y, 0, 0, 1, 0, 0, 2, 2, 4, 3);
+        c.piece("off, on", y, 1, 0, 1, 4, 3, 6, 4, 8, 0);
+        c.piece("on, on", y, 2, 0, 0, 8, 0, 0, 0, 18, 18);
+        c.piece("on, and the first one", y, 3, 0, 0, 18, 18, 0, 0, 0, 0);
+    }
+
     /** POINTS that are ints, while their halves of units are beyond these. */
     private static void wrapping(Checks c) {
         byte[][] signs = new byte[6][];
@@ -98,6 +114,29 @@ public final class PieceTest {
         c.same("by what the last one bends", x.piece(59, 4), 2 * last);
         c.same("where the last one begins", x.piece(59, 2), last + before);
         c.same("where the last one ends", x.piece(59, 7), last - 1024 * 32767);
+    }
+
+    private static void withoutPieces(Checks c) {
+        int[] dot = {1, 1, ON};
+        TrueOutlines x = FontFile.of(true, Sign.row(2), Sign.EMPTY, new byte[3], Sign.simple(dot)).read();
+        c.fails("piece(0, 0) before a run()", NONE, () -> x.piece(0, 0));
+        for (int sign = 1; sign <= 4; sign++) {
+            x.run(0);
+            c.same("piece(1, 6)", x.piece(1, 6), 0);
+            c.same("run(" + sign + ")", x.run(sign), sign == 4 ? -1 : 0);
+            c.fails("piece(0, 0) of an empty, a bad one, a dot, and none", NONE, () -> x.piece(0, 0));
+        }
+    }
+
+    /** As many PIECES as there may be POINTS, and fewer behind more. */
+    private static void allOfAFullSign(Checks c) {
+        TrueOutlines x = FontFile.of(Sign.row(120), Sign.row(119)).read();
+        c.same("run(0)", x.run(0), 120);
+        c.piece("the last of 120", x, 119, 0, 0, 238, 0, 0, 0, 0, 0);
+        c.fails("piece(120, 0)", NONE, () -> x.piece(120, 0));
+        c.same("run(1)", x.run(1), 119);
+        c.piece("the last of 119", x, 118, 0, 0, 236, 0, 0, 0, 0, 0);
+        c.fails("piece(119, 0)", NONE, () -> x.piece(119, 0));
     }
 
     private static void wrongNumbers(Checks c) {

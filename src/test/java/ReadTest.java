@@ -6,8 +6,12 @@ public final class ReadTest {
         firstOneThatIsNotWhole(c);
         placesAndLengthsBeyondTheFile(c);
         twentyFourAtMost(c);
+        rowsBeyondTheTwentyFour(c);
+        noneAreThereBehindAWrongOne(c);
         readingAgain(c);
         firstOfATagCounts(c);
+        firstOfEveryTagCounts(c);
+        tagsOfOtherLetters(c);
         c.end();
     }
 
@@ -82,6 +86,51 @@ public final class ReadTest {
         c.fails("octet(24, 0)", ArrayIndexOutOfBoundsException.class, () -> y.octet(24, 0));
     }
 
+    /** As many rows of empty TABLES as told, and how many there should be by TWO at 4. */
+    private static int readRows(int told, int rows, int fewer) {
+        Bytes file = new Bytes().four(65536).two(told, 0, 0, 0);
+        for (int i = 0; i < rows; i++) {
+            file.text("aaaa").four(0, 0, 0);
+        }
+        TrueOutlines x = new TrueOutlines();
+        FontFile.fill(x, java.util.Arrays.copyOf(file.done(), file.size() - fewer));
+        return x.read();
+    }
+
+    private static void rowsBeyondTheTwentyFour(Checks c) {
+        c.same("23 of 23", readRows(23, 23, 0), 23);
+        c.same("23 of 24 rows", readRows(24, 23, 0), -24);
+        c.same("24 rows less a byte", readRows(24, 24, 1), -24);
+        c.same("24 of 24 rows", readRows(24, 24, 0), 24);
+        c.same("24 of 25 rows", readRows(25, 24, 0), 24);
+        c.same("24 of 65535 rows", readRows(65535, 24, 0), 24);
+        c.same("23 of 65535 rows", readRows(65535, 23, 0), -24);
+        c.same("more rows than are told", readRows(3, 24, 0), 3);
+        c.same("256 rows are told in the higher byte", readRows(256, 1, 0), -2);
+        c.same("none of none", readRows(0, 0, 0), 0);
+    }
+
+    private static void noneAreThereBehindAWrongOne(Checks c) {
+        Bytes file = new Bytes().four(65536).two(3, 0, 0, 0).text("maxp").four(9, 0, 12)
+                .text("head").four(9, 0, 60).text("abcd").four(9, 0, 61);
+        TrueOutlines x = new TrueOutlines();
+        FontFile.fill(x, file.done());
+        c.same("read()", x.read(), -3);
+        c.same("count(0)", x.count(0), 0);
+        c.same("count(1)", x.count(1), 0);
+        c.same("sum(0)", x.sum(0), -1);
+        c.same("run(0)", x.run(0), -1);
+        c.same("cut(0)", x.cut(0), -1);
+        c.same("scaled(1, 1000)", x.scaled(1, 1000), 0);
+        c.fails("octet(0, 0)", ArrayIndexOutOfBoundsException.class, () -> x.octet(0, 0));
+        x.read();
+        c.told("no sums", x);
+        x.add(0, 1);
+        c.same("read() of one byte more", x.read(), 3);
+        c.same("count(1) of one byte more", x.count(1), 3);
+        c.told("all sums", x, 2, 0, 2, 1, 2, 2);
+    }
+
     private static void readingAgain(Checks c) {
         TrueOutlines x = FontFile.of(Sign.row(3), Sign.row(2)).read();
         x.run(0);
@@ -102,5 +151,48 @@ public final class ReadTest {
         c.same("count(1) by the first maxp", x.count(1), 3);
         TrueOutlines y = new FontFile().table("maxp", new byte[0]).table("maxp", FontFile.maxp(5)).read();
         c.same("count(1) by an empty first maxp", y.count(1), 0);
+    }
+
+    /** All that a file tells: each by another TABLE. */
+    private static FontFile telling(FontFile file, int times) {
+        byte[] cmap = new Bytes().two(0, 1, 0, 0).four(12).two(6, 0, 0, 65, 1, times).done();
+        byte[] kern = new Bytes().two(0, 0, 0, 0, 0, 1, 0, 0, 0, 1, 2, 10 * times).done();
+        byte[] glyf = Sign.row(2 * times);
+        byte[] loca = new Bytes().two(0, glyf.length / 2, glyf.length / 2, glyf.length / 2).done();
+        return file.table("head", FontFile.head(64 * times, 0)).table("maxp", FontFile.maxp(3))
+                .table("hhea", FontFile.hhea(times)).table("hmtx", new Bytes().two(100 * times, 0, 300, 0).done())
+                .table("cmap", cmap).table("kern", kern).table("loca", loca).table("glyf", glyf);
+    }
+
+    private static void firstOfEveryTagCounts(Checks c) {
+        TrueOutlines x = telling(telling(new FontFile(), 1), 2).read();
+        c.same("count(0)", x.count(0), 16);
+        c.same("map(65) by the first cmap", x.map(65), 1);
+        c.same("kern(1, 2) by the first kern", x.kern(1, 2), 10);
+        c.same("width(0) by the first hmtx", x.width(0), 100);
+        c.same("width(1) by the first hhea", x.width(1), 100);
+        c.same("scaled(1, 1) by the first head", x.scaled(1, 1), 1);
+        c.same("run(0) by the first glyf and loca", x.run(0), 2);
+        String[] tags = {"head", "maxp", "hhea", "hmtx", "cmap", "kern", "loca", "glyf"};
+        for (String tag : tags) {
+            TrueOutlines y = telling(new FontFile().table(tag, new byte[0]), 2).read();
+            boolean noSigns = tag.equals("maxp");
+            boolean noGlyf = tag.equals("glyf") || tag.equals("loca");
+            c.same("an empty " + tag + ": count(1)", y.count(1), noSigns ? 0 : 3);
+            c.same("an empty " + tag + ": map(65)", y.map(65), noSigns || tag.equals("cmap") ? 0 : 2);
+            c.same("an empty " + tag + ": kern(1, 2)", y.kern(1, 2), tag.equals("kern") ? 0 : 20);
+            c.same("an empty " + tag + ": scaled(2, 1)", y.scaled(2, 1), tag.equals("head") ? 0 : 1);
+            c.same("an empty " + tag + ": run(0)", y.run(0), noSigns ? -1 : noGlyf ? 0 : 4);
+            c.same("an empty " + tag + ": width(0)", y.width(0),
+                    noSigns || tag.equals("hhea") || tag.equals("hmtx") ? 0 : 200);
+        }
+    }
+
+    private static void tagsOfOtherLetters(Checks c) {
+        String[] others = {"Maxp", "maxP", "nbxp", " maxp".substring(0, 4), "\u00edaxp"};
+        for (String tag : others) {
+            TrueOutlines x = new FontFile().table(tag, FontFile.maxp(5)).table("maxp", FontFile.maxp(3)).read();
+            c.same("count(1) behind " + tag, x.count(1), 3);
+        }
     }
 }

@@ -8,6 +8,8 @@ public final class RunManyPartsTest {
         joinedEmptyParts(c);
         pointsBehindAllThatIsTold(c);
         pointsAtEveryLevel(c);
+        pointsInOneSignAlone(c);
+        pointsUnderOneSignAlone(c);
         c.end();
     }
 
@@ -108,6 +110,48 @@ public final class RunManyPartsTest {
         c.same("how many are told", x.told(-1, 0), 100);
         c.same("count(3)", x.count(3), 5);
         c.same("count(4)", x.count(4), 5);
+    }
+
+    /** SIGNS 0, 2, 4 .. have one another and SIGN 12 as PARTS, which alone has a POINT: SIGN 13. */
+    private static void pointsInOneSignAlone(Checks c) {
+        byte[] circle = parts(169, 0, 2, 4, 6, 8, 10, 12);
+        byte[] outer = new Bytes().all(parts(30, 0, 2, 4, 6, 8, 10)).all(Sign.moved(13, 3, 4)).done();
+        outer[outer.length - 11] |= 32;
+        Bytes loca = new Bytes();
+        for (int i = 0; i < 6; i++) {
+            loca.four(0, circle.length);
+        }
+        loca.four(circle.length, circle.length + outer.length, circle.length + outer.length + Sign.row(1).length);
+        TrueOutlines x = new FontFile().table("head", FontFile.head(1000, 1)).table("maxp", FontFile.maxp(14))
+                .table("loca", loca.done())
+                .table("glyf", new Bytes().all(circle).all(outer).all(Sign.row(1)).done()).read();
+        c.same("run(12)", x.run(12), 0);
+        c.same("how many are told", x.told(-1, 0), 100);
+        c.same("count(3)", x.count(3), 1);
+        c.same("run(0)", x.run(0), 0);
+        c.same("count(3), as many as there may be", x.count(3), 120);
+    }
+
+    /** SIGN 1 has SIGN 2, which has SIGN 1: nothing comes of SIGN 2 in it, but in SIGN 3, and alone. */
+    private static void pointsUnderOneSignAlone(Checks c) {
+        byte[] one = Sign.composite(Sign.moved(2, 0, 0), Sign.moved(2, 0, 0), Sign.moved(0, 5, 5));
+        byte[] two = Sign.composite(Sign.moved(1, 10, 10));
+        byte[] three = Sign.composite(Sign.moved(2, 20, 20), Sign.moved(2, 30, 30));
+        byte[][] parts = new byte[105][];
+        java.util.Arrays.fill(parts, Sign.moved(900, 0, 0));
+        parts[100] = Sign.moved(1, 0, 0);
+        parts[101] = Sign.moved(3, 0, 0);
+        parts[102] = Sign.moved(1, 0, 0);
+        parts[103] = Sign.moved(2, 0, 0);
+        parts[104] = Sign.moved(3, 0, 0);
+        TrueOutlines x = FontFile.of(true, Sign.row(2), one, two, three, Sign.composite(parts)).read();
+        int[] due = {5, 35, 45, 5, 15, 35, 45};
+        for (int again = 0; again < 2; again++) {
+            c.same("run(4)", x.run(4), 2 * due.length);
+            for (int i = 0; i < due.length; i++) {
+                c.same("where contour " + i + " begins", x.piece(2 * i, 3), 2 * due[i]);
+            }
+        }
     }
 
     private static void joinedEmptyParts(Checks c) {

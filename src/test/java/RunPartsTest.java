@@ -12,12 +12,19 @@ public final class RunPartsTest {
         joining(c);
         joiningWhatIsNotThere(c);
         joiningInside(c);
+        joiningByGreatNumbers(c);
+        joiningFarPoints(c);
+        movingBeyondTheInts(c);
         leftOut(c);
+        leftOutAtTheEnd(c);
         depth(c);
+        depthOfCircles(c);
         badParts(c);
         everyByteIsNeeded(c);
         tooManyPoints(c);
+        pointsOfBadSigns(c);
         contours(c);
+        contoursBelowNone(c);
         c.end();
     }
 
@@ -170,6 +177,89 @@ public final class RunPartsTest {
         c.told("its own points do not count", y, 3, 0);
     }
 
+    /** Without 2 the numbers are not below 0: 255 and 65535 are not the POINT before the SIGN's first one. */
+    private static void joiningByGreatNumbers(Checks c) {
+        byte[][] parts = {Sign.joined(0, 255, 0), Sign.joined(0, 0, 255), new Bytes().two(1, 0, 65535, 0).done(),
+            new Bytes().two(1, 0, 0, 65535).done(), Sign.joined(0, 128, 128)};
+        for (int i = 0; i < parts.length; i++) {
+            byte[] inner = Sign.composite(Sign.moved(0, 1, 1), parts[i]);
+            TrueOutlines x = FontFile.of(true, Sign.row(2), inner,
+                    Sign.composite(Sign.moved(0, 9, 9), Sign.moved(1, 0, 0))).read();
+            c.same("run(2) of " + i, x.run(2), 6);
+            c.told("run(2) of " + i, x, 3, 0);
+            c.piece("not moved, " + i, x, 4, 2, 0, 0, 0, 0, 0, 2, 0);
+        }
+    }
+
+    /** The last POINT of SIGN 4 is far away, and comes to the first one of SIGN 5; all others go with it. */
+    private static void joiningFarPoints(Checks c) {
+        byte[][] signs = new byte[7][];
+        signs[0] = Sign.far(64, Sign.ON);
+        for (int i = 1; i < 5; i++) {
+            signs[i] = Sign.composite(Sign.timesMinusFour(i - 1));
+        }
+        signs[5] = Sign.simple(new int[] {100, -7, Sign.ON, 1, 1, Sign.ON});
+        signs[6] = Sign.composite(Sign.timesMinusFour(5), Sign.joined(4, 0, 63));
+        TrueOutlines x = FontFile.of(true, signs).read();
+        c.same("run(4)", x.run(4), 64);
+        c.same("run(6)", x.run(6), 66);
+        c.told("run(6)", x);
+        int joined = -2 * (100 - 7);
+        for (int i = 0; i < 64; i++) {
+            int away = 256 * 32767 * (i - 63);
+            c.same("x of " + i, x.piece(2 + i, 2), 2 * (joined + away));
+            c.same("y of " + i, x.piece(2 + i, 3), 2 * (joined + away));
+        }
+    }
+
+    /** The last POINT of SIGN 4 is at 2^31 - 2 behind a scale of 63552 / 16384; then it is moved. */
+    private static void movingBeyondTheInts(Checks c) {
+        int far = Integer.MAX_VALUE - 1;
+        int[][] moves = {{0, 1}, {1, 2}, {2, 3}, {32767, -32768}};
+        for (int[] move : moves) {
+            byte[][] signs = new byte[6][];
+            signs[0] = Sign.far(66, Sign.ON);
+            for (int i = 1; i < 5; i++) {
+                signs[i] = Sign.composite(Sign.timesMinusFour(i - 1));
+            }
+            signs[5] = Sign.composite(new Bytes().two(3 + 128, 4, move[0], move[1])
+                    .two(31776, 31776, 31776, 31776).done());
+            TrueOutlines x = FontFile.of(true, signs).read();
+            c.same("run(5)", x.run(5), 66);
+            c.same("x of the last one, moved by " + move[0], x.piece(65, 2), 2 * (far + move[0]));
+            c.same("y of the last one, moved by " + move[1], x.piece(65, 3), 2 * (far + move[1]));
+        }
+    }
+
+    /** The last PART is left out, or the only one: the SIGN is not BAD for that. */
+    private static void leftOutAtTheEnd(Checks c) {
+        TrueOutlines x = FontFile.of(true, Sign.row(2), Sign.composite(Sign.moved(0, 0, 0), Sign.moved(3, 0, 0)),
+                Sign.composite(Sign.moved(2, 0, 0))).read();
+        c.same("the last one", x.run(1), 2);
+        c.told("the last one", x, 4, 3);
+        c.same("the only one", x.run(2), 0);
+        c.told("the only one", x, 4, 2);
+        byte[] joined = Sign.composite(Sign.moved(0, 0, 0), Sign.joined(9, 7, 7));
+        TrueOutlines y = FontFile.of(true, Sign.row(2), joined).read();
+        c.same("one that would be joined", y.run(1), 2);
+        c.told("one that would be joined is left out, and no more", y, 4, 9);
+    }
+
+    /** SIGN i has SIGN i + 1 as its PART, the last one the first: that lies in itself before it lies in six. */
+    private static void depthOfCircles(Checks c) {
+        for (int size = 1; size <= 8; size++) {
+            byte[][] signs = new byte[size][];
+            for (int i = 0; i < size; i++) {
+                signs[i] = Sign.composite(Sign.moved((i + 1) % size, 0, 0));
+            }
+            TrueOutlines x = FontFile.of(true, signs).read();
+            for (int i = 0; i < size; i++) {
+                c.same("run(" + i + ") of a circle of " + size, x.run(i), 0);
+                c.told("a circle of " + size, x, 4, size <= 6 ? i : (i + 6) % size);
+            }
+        }
+    }
+
     private static void leftOut(Checks c) {
         byte[] sign = Sign.composite(Sign.moved(0, 0, 0), Sign.moved(4, 0, 0), Sign.moved(1, 0, 0),
                 Sign.moved(65535, 0, 0), Sign.joined(3, 0, 0), Sign.moved(0, 5, 5));
@@ -251,6 +341,44 @@ public final class RunPartsTest {
         c.same("all of the sign that is run", x.run(5), 120);
         c.told("all of the sign that is run", x, 1, 0, 1, 1);
         c.same("20", x.run(1), 20);
+    }
+
+    /** The POINTS of a SIGN that proves BAD are counted while it is made, and are gone behind it. */
+    private static void pointsOfBadSigns(Checks c) {
+        byte[] bad = Sign.composite(Sign.moved(0, 0, 0), Sign.moved(0, 0, 0));
+        bad[bad.length - 5] |= 32;
+        TrueOutlines x = FontFile.of(true, Sign.row(60), bad,
+                Sign.composite(Sign.moved(0, 1, 1), Sign.moved(1, 0, 0), Sign.moved(0, 2, 2))).read();
+        c.same("run(1)", x.run(1), 0);
+        c.told("run(1)", x, 1, 1);
+        c.same("run(2)", x.run(2), 120);
+        c.told("run(2)", x, 1, 0, 1, 1);
+        c.same("count(4)", x.count(4), 2);
+        c.same("the contour of the last one", x.piece(119, 0), 1);
+        c.same("y of the last one", x.piece(119, 3), 4);
+        TrueOutlines y = FontFile.of(true, Sign.row(120), Sign.simple(new int[] {0, 0, Sign.ON}),
+                Sign.composite(Sign.moved(0, 0, 0), Sign.moved(1, 0, 0)),
+                Sign.composite(Sign.moved(1, 0, 0), Sign.moved(0, 0, 0))).read();
+        c.same("120 and 1", y.run(2), 120);
+        c.told("120 and 1", y, 1, 1);
+        c.same("1 and 120", y.run(3), 0);
+        c.told("1 and 120", y, 1, 0);
+        c.same("count(3)", y.count(3), 1);
+    }
+
+    private static void contoursBelowNone(Checks c) {
+        int[] below = {-1, -2, -32768};
+        for (int contours : below) {
+            TrueOutlines x = FontFile.of(true, Sign.row(2),
+                    Sign.header(contours).all(Sign.moved(0, 0, 0)).done()).read();
+            c.same(contours + " contours", x.run(1), 2);
+            c.told(contours + " contours", x);
+        }
+        for (int size = 1; size < 10; size++) {
+            TrueOutlines x = FontFile.of(true, Arrays.copyOf(Sign.header(-1).done(), size)).read();
+            c.same("parts behind " + size + " bytes", x.run(0), 0);
+            c.told("parts behind " + size + " bytes", x, 1, 0);
+        }
     }
 
     private static void contours(Checks c) {

@@ -7,6 +7,7 @@ public final class RunSimpleTest {
         flags(c);
         repeatedFlags(c);
         repeatedTooOften(c);
+        repeatedAtTheEnd(c);
         passedBytes(c);
         emptySigns(c);
         noContours(c);
@@ -14,8 +15,13 @@ public final class RunSimpleTest {
         everyByteIsNeeded(c);
         pointsAtMost(c);
         places(c);
+        formsOfLoca(c);
+        locaAtTheFilesBeginning(c);
+        dataUpToTheEndOfGlyf(c);
         everyByteOfLocaIsNeeded(c);
         noSuchSign(c);
+        twoHundredSigns(c);
+        steps(c);
         wrapping(c);
         c.end();
     }
@@ -65,6 +71,33 @@ public final class RunSimpleTest {
                 c.told("again " + again + " of 2", x, 1, 0);
             }
         }
+    }
+
+    /** The flag of the last POINT but some has 8: all behind it, none of none, and one of none. */
+    private static void repeatedAtTheEnd(Checks c) {
+        int same = 1 + 16 + 32;
+        for (int before = 0; before < 4; before++) {
+            for (int again = 0; again < 5; again++) {
+                Bytes sign = Sign.header(1).two(3, 0);
+                for (int i = 0; i < before; i++) {
+                    sign.one(same);
+                }
+                sign.one(same + 8, again);
+                for (int i = before + again; i < 3; i++) {
+                    sign.one(same);
+                }
+                TrueOutlines x = of(sign.zeros(4));
+                boolean good = before + again <= 3;
+                c.same(before + " before, again " + again, x.run(0), good ? 4 : 0);
+                c.same(before + " before, again " + again + ": told", x.told(-1, 0), good ? 0 : 1);
+            }
+        }
+        c.same("again 255", of(Sign.header(1).two(119, 0).one(same + 8, 255).zeros(9)).run(0), 0);
+        c.same("again 120", of(Sign.header(1).two(119, 0).one(same + 8, 120).zeros(9)).run(0), 0);
+        Bytes contours = Sign.header(2).two(1, 3, 0).one(same + 8, 3);
+        TrueOutlines both = of(contours);
+        c.same("over two contours", both.run(0), 4);
+        c.same("count(4)", both.count(4), 2);
     }
 
     private static void passedBytes(Checks c) {
@@ -193,6 +226,47 @@ public final class RunSimpleTest {
         c.told("without glyf", noGlyf, 1, 0);
     }
 
+    /** Places of four bytes are told by 1 alone. */
+    private static void formsOfLoca(Checks c) {
+        int[] others = {0, 2, 3, 256, 257, 32768, 65535};
+        for (int form : others) {
+            TrueOutlines x = withLoca(FontFile.head(1, form), new Bytes().two(0, 9, 9, 9).done(), 1);
+            c.same("form " + form, x.run(0), 2);
+        }
+        TrueOutlines y = withLoca(FontFile.head(1, 1), new Bytes().two(0, 0, 0, 18).done(), 1);
+        c.same("form 1", y.run(0), 2);
+        TrueOutlines z = withLoca(FontFile.head(1, 1), new Bytes().two(0, 9, 9, 9).done(), 1);
+        c.same("form 1, places beyond", z.run(0), 0);
+        c.told("form 1, places beyond", z, 1, 0);
+        TrueOutlines exact = withLoca(Arrays.copyOf(FontFile.head(1, 1), 52), new Bytes().four(0, 18).done(), 1);
+        c.same("a head of 52 bytes", exact.run(0), 2);
+    }
+
+    /** loca lies over the file's first bytes, 0, 0, 0, 0, 0, 4, 0, 0, so that glyf's first SIGN goes to its end. */
+    private static void locaAtTheFilesBeginning(Checks c) {
+        byte[] sign = Sign.row(2);
+        byte[] file = new Bytes().four(0).two(4, 0, 0, 0).text("head").four(0, 76, 54).text("maxp").four(0, 130, 6)
+                .text("loca").four(0, 0, 8).text("glyf").four(0, 136, sign.length)
+                .all(FontFile.head(1, 1)).all(FontFile.maxp(1)).all(sign).done();
+        TrueOutlines x = new TrueOutlines();
+        FontFile.fill(x, file);
+        c.same("read()", x.read(), 4);
+        c.same("run(0)", x.run(0), 2);
+        c.told("run(0)", x);
+    }
+
+    /** What is behind glyf in the file is PAST, though the SIGN's second place is beyond glyf. */
+    private static void dataUpToTheEndOfGlyf(Checks c) {
+        byte[] sign = Sign.row(2);
+        for (int less = 0; less <= sign.length; less++) {
+            TrueOutlines x = new FontFile().table("head", FontFile.head(1, 1)).table("maxp", FontFile.maxp(1))
+                    .table("loca", new Bytes().four(0, 5000).done())
+                    .table("glyf", Arrays.copyOf(sign, sign.length - less)).table("more", new byte[30]).read();
+            c.same("run(0) of a glyf less " + less, x.run(0), less == 0 ? 2 : 0);
+            c.same("told", x.told(-1, 0), less == 0 ? 0 : 1);
+        }
+    }
+
     private static void everyByteOfLocaIsNeeded(Checks c) {
         byte[] fours = new Bytes().four(0, 18).done();
         for (int size = 0; size <= fours.length; size++) {
@@ -221,6 +295,30 @@ public final class RunSimpleTest {
             c.told("run(" + sign + ")", x);
             c.fails("piece(0, 0)", IndexOutOfBoundsException.class, () -> x.piece(0, 0));
         }
+    }
+
+    private static void twoHundredSigns(Checks c) {
+        byte[] loca = new byte[404];
+        int[] signs = {198, 199, 200, 201, 65535};
+        int[] most = {198, 199, 200, 200, 200};
+        for (int i = 0; i < signs.length; i++) {
+            TrueOutlines x = new FontFile().table("maxp", FontFile.maxp(signs[i])).table("loca", loca).read();
+            c.same("the last of " + signs[i], x.run(most[i] - 1), 0);
+            c.told("the last of " + signs[i], x);
+            c.same("behind the last of " + signs[i], x.run(most[i]), -1);
+        }
+        TrueOutlines none = new FontFile().table("maxp", FontFile.maxp(0)).table("loca", loca).read();
+        c.same("run(0) without signs", none.run(0), -1);
+    }
+
+    /** The greatest and the least steps, of a byte and of two, in x and in y. */
+    private static void steps(Checks c) {
+        Bytes bytes = Sign.header(1).two(3, 0).one(1 + 2 + 16 + 4 + 32, 1 + 2 + 4, 1 + 2 + 4 + 32, 1 + 2 + 16 + 4)
+                .one(255, 255, 0, 128).one(128, 255, 255, 0);
+        lines(c, "steps of a byte", of(bytes), 255, 128, 0, -127, 0, 128, 128, 128);
+        Bytes twos = Sign.header(1).two(3, 0).one(1, 1, 1, 1)
+                .two(32767, 32768, 65535, 1).two(32768, 32768, 32767, 0);
+        lines(c, "steps of two", of(twos), 32767, -32768, -1, -65536, -2, -32769, -1, -32769);
     }
 
     private static void wrapping(Checks c) {

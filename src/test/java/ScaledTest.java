@@ -4,6 +4,8 @@ public final class ScaledTest {
         Checks c = new Checks("ScaledTest");
         nearest(c);
         edges(c);
+        dotsAtTheirEdges(c);
+        halvesOfAll(c);
         whatIsNotThere(c);
         c.end();
     }
@@ -40,6 +42,34 @@ public final class ScaledTest {
         int[] wrong = {-1, 1001, Integer.MIN_VALUE, Integer.MAX_VALUE};
         for (int dots : wrong) {
             c.same("scaled(1, " + dots + ")", y.scaled(1, dots), -1);
+        }
+    }
+
+    private static void dotsAtTheirEdges(Checks c) {
+        TrueOutlines x = unit(64);
+        c.same("0 dots", x.scaled(7, 0), 0);
+        c.same("1 dot", x.scaled(7, 1), 7);
+        c.same("999 dots", x.scaled(7, 999), 6993);
+        c.same("1000 dots", x.scaled(7, 1000), 7000);
+        c.same("1001 dots", x.scaled(7, 1001), -1);
+        c.same("-1 dots", x.scaled(7, -1), -1);
+        c.same("-1 as an answer", x.scaled(-1, 1), -1);
+        c.same("1001 dots of no length", x.scaled(0, 1001), -1);
+    }
+
+    /** The nearest, by going up one by one: of two that are as near the greater one. */
+    private static void halvesOfAll(Checks c) {
+        int[] units = {1, 2, 3, 64, 127, 128, 256, 1000, 2048, 65535};
+        for (int unit : units) {
+            TrueOutlines x = unit(unit);
+            for (int length = -20; length <= 20; length++) {
+                long exact = 64L * length * 3;
+                long near = -4000;
+                while (2 * (near + 1) * unit <= 2 * exact + unit) {
+                    near++;
+                }
+                c.same("scaled(" + length + ", 3) by " + unit, x.scaled(length, 3), near);
+            }
         }
     }
 

@@ -7,6 +7,8 @@ public final class ToldTest {
         sums(c);
         latest(c);
         hundredAtMost(c);
+        everyKind(c);
+        sumsOfAllTables(c);
         wrongNumbers(c);
         c.end();
     }
@@ -53,12 +55,43 @@ public final class ToldTest {
                 new byte[1]).read();
         x.run(1);
         c.same("99", x.told(-1, 0), 99);
+        c.fails("told(99, 0) of 99", NONE, () -> x.told(99, 0));
+        TrueOutlines y = FontFile.of(true, Sign.composite(java.util.Arrays.copyOf(parts, 100))).read();
+        y.run(0);
+        c.same("100", y.told(-1, 0), 100);
+        c.same("the last of 100", y.told(99, 1), 1099);
         x.run(0);
         c.same("101", x.told(-1, 0), 100);
         c.same("the last one", x.told(99, 1), 1099);
         c.fails("told(100, 0)", NONE, () -> x.told(100, 0));
         x.run(2);
         c.told("fewer behind more", x, 1, 2);
+    }
+
+    /** All in the order in which it comes; a SIGN that is BAD is TOLD behind what its PARTS told. */
+    private static void everyKind(Checks c) {
+        byte[] bad = Sign.composite(Sign.moved(77, 0, 0), Sign.joined(0, 5, 0), Sign.moved(1, 0, 0));
+        bad[bad.length - 5] |= 32;
+        TrueOutlines x = FontFile.of(true, Sign.row(2), new byte[1], bad,
+                Sign.composite(Sign.moved(2, 0, 0), Sign.moved(3, 0, 0))).read();
+        c.same("run(3)", x.run(3), 0);
+        c.told("run(3)", x, 4, 77, 3, 0, 1, 1, 1, 2, 4, 3);
+        c.same("run(2)", x.run(2), 0);
+        c.told("run(2)", x, 4, 77, 3, 0, 1, 1, 1, 2);
+    }
+
+    private static void sumsOfAllTables(Checks c) {
+        FontFile file = new FontFile();
+        int[] due = new int[48];
+        for (int i = 0; i < 24; i++) {
+            file.table("aaaa", new byte[0], 1 + i);
+            due[2 * i] = 2;
+            due[2 * i + 1] = i;
+        }
+        TrueOutlines x = file.read();
+        c.told("24 wrong sums", x, due);
+        c.same("nothing is told twice", x.read(), 24);
+        c.told("24 wrong sums, read again", x, due);
     }
 
     private static void wrongNumbers(Checks c) {

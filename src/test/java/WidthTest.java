@@ -5,6 +5,7 @@ public final class WidthTest {
         widths(c);
         whatIsNotThere(c);
         atTheFilesBeginning(c);
+        twoHundredSigns(c);
         c.end();
     }
 
@@ -42,11 +43,32 @@ public final class WidthTest {
         c.same("width(3)", x.width(3), 0);
     }
 
+    private static void twoHundredSigns(Checks c) {
+        Bytes hmtx = new Bytes();
+        for (int i = 0; i < 202; i++) {
+            hmtx.two(1000 + i, 9);
+        }
+        TrueOutlines x = new FontFile().table("maxp", FontFile.maxp(202)).table("hhea", FontFile.hhea(202))
+                .table("hmtx", hmtx.done()).read();
+        c.same("width(198)", x.width(198), 1198);
+        c.same("width(199)", x.width(199), 1199);
+        c.same("width(200), which is no sign any more", x.width(200), 0);
+    }
+
     private static void whatIsNotThere(Checks c) {
         byte[] cut = new Bytes().two(10, 1, 20, 2).one(3).done();
         all(c, "hmtx is cut", file(3, cut).read(), 10, 20, 0, 0, 0);
         byte[] enough = new Bytes().two(10, 1, 20).done();
         all(c, "the last width without what is behind it", file(2, enough).read(), 10, 20, 20, 20, 20);
+        for (int size = 0; size <= 2; size++) {
+            all(c, "hmtx of " + size + " bytes", file(1, java.util.Arrays.copyOf(enough, size)).read(),
+                    size < 2 ? new int[5] : new int[] {10, 10, 10, 10, 10});
+        }
+        byte[] exact = new Bytes().zeros(34).two(2).done();
+        TrueOutlines x = new FontFile().table("maxp", FontFile.maxp(5)).table("hhea", exact).table("hmtx", enough).read();
+        all(c, "hhea of 36 bytes", x, 10, 20, 20, 20, 20);
+        TrueOutlines y = new FontFile().table("hhea", exact).table("hmtx", enough).read();
+        c.same("no maxp", y.width(0), 0);
         FontFile maxp = new FontFile().table("maxp", FontFile.maxp(5));
         all(c, "no hhea", maxp.table("hmtx", enough).read(), 0, 0, 0, 0, 0);
         byte[] shortHhea = java.util.Arrays.copyOf(FontFile.hhea(1), 35);

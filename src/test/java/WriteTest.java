@@ -15,6 +15,11 @@ public final class WriteTest {
         sizeOfLoca(c);
         farPlaces(c);
         twoHundredSigns(c);
+        moreTablesThanAreRead(c);
+        zerosBehindOddData(c);
+        usedSignsThatAreBadOtherwise(c);
+        writingTwice(c);
+        sumsThatWrap(c);
         whatMustBeThere(c);
         whatWasWrittenStays(c);
         writtenFileIsRead(c);
@@ -210,6 +215,97 @@ public final class WriteTest {
         compare(c, "200 signs", x, "glyf", new byte[0], "head", FontFile.head(1, 0),
                 "loca", new byte[402], "maxp", FontFile.maxp(200));
         c.same("201 signs", file.table("maxp", FontFile.maxp(201)).read().write(), -1);
+    }
+
+    /** The first 12 bytes stay as they were, though 24 TABLES of 26 are written. */
+    private static void moreTablesThanAreRead(Checks c) {
+        FontFile file = new FontFile();
+        for (int i = 0; i < 20; i++) {
+            file.table("aaaa", new byte[0]);
+        }
+        file.table("head", FontFile.head(1, 0)).table("maxp", FontFile.maxp(0)).table("loca", new byte[0])
+                .table("glyf", new byte[0]).table("bbbb", new byte[8]).table("cccc", new byte[8]);
+        TrueOutlines x = file.read();
+        c.same("count(0)", x.count(0), 24);
+        c.same("write()", x.write(), 12 + 16 * 24 + 56 + 8 + 4);
+        int[] first = {0, 1, 0, 0, 0, 26, 0, 1, 0, 2, 0, 3};
+        for (int i = 0; i < 12; i++) {
+            c.same("at(" + i + ")", x.at(i), first[i]);
+        }
+        FontFile late = new FontFile();
+        for (int i = 0; i < 21; i++) {
+            late.table("aaaa", new byte[0]);
+        }
+        late.table("head", FontFile.head(1, 0)).table("maxp", FontFile.maxp(0)).table("loca", new byte[0])
+                .table("glyf", new byte[0]);
+        c.same("a glyf that is not read is not there", late.read().write(), -1);
+    }
+
+    /** SIGNS 0, 2, 4 .. share the same DATA of three bytes; the other TABLES leave 80 bytes for glyf. */
+    private static void zerosBehindOddData(Checks c) {
+        Bytes loca = new Bytes();
+        for (int i = 0; i < 21; i++) {
+            loca.four(0, 3);
+        }
+        int locaSize = 4 * 42;
+        int other = (2400 - 12 - 6 * 16 - 52 - 8 - locaSize - 80) / 2;
+        byte[] file = new Bytes().four(65536).two(6).two(1, 2, 3)
+                .text("head").four(0, 108, 52).text("maxp").four(0, 160, 6).text("loca").four(0, 166, locaSize)
+                .text("glyf").four(0, 0, 3).text("aaaa").four(0, 0, other).text("bbbb").four(0, 0, other)
+                .all(Arrays.copyOf(FontFile.head(1, 1), 52)).all(FontFile.maxp(41)).all(loca.done()).done();
+        TrueOutlines x = new TrueOutlines();
+        FontFile.fill(x, Arrays.copyOf(file, 1200));
+        c.same("read()", x.read(), 6);
+        for (int i = 0; i < 20; i++) {
+            c.same("cut(" + 2 * i + ")", x.cut(2 * i), i + 1);
+            c.same("write() of " + (i + 1), x.write(), 2400 - 80 + 4 * (i + 1));
+        }
+        c.same("cut(40)", x.cut(40), 21);
+        c.same("write() of 21", x.write(), -1);
+        c.same("the file of 20 stays", x.at(2399), 0);
+    }
+
+    /** A SIGN that is BAD by its DATA alone is written: its place is as it has to be. */
+    private static void usedSignsThatAreBadOtherwise(Checks c) {
+        byte[] bad = new Bytes().one(0, 1, 2, 3).done();
+        byte[] cut = Arrays.copyOf(Sign.composite(Sign.moved(0, 0, 0), Sign.moved(1, 0, 0)), 18);
+        TrueOutlines x = FontFile.of(bad, cut, Sign.EMPTY, Sign.row(2)).read();
+        c.same("run(0)", x.run(0), 0);
+        c.told("run(0)", x, 1, 0);
+        c.same("cut(1)", x.cut(1), 2);
+        c.same("cut(2)", x.cut(2), 3);
+        byte[] glyf = new Bytes().all(bad).all(cut).done();
+        compare(c, "bad by their data", x, "glyf", glyf, "head", FontFile.head(1000, 0),
+                "loca", new Bytes().two(0, 2, 11, 11, 11).done(), "maxp", FontFile.maxp(4));
+    }
+
+    private static void writingTwice(Checks c) {
+        TrueOutlines x = FontFile.of(true, Sign.row(2), Sign.row(3)).read();
+        x.cut(0);
+        byte[] first = written(x, x.write());
+        byte[] second = written(x, x.write());
+        c.same("the same again", Arrays.equals(first, second) ? 1 : 0, 1);
+        x.cut(7);
+        x.run(1);
+        x.add(-1, 8);
+        byte[] third = written(x, x.write());
+        c.same("the same behind calls that use no sign", Arrays.equals(first, third) ? 1 : 0, 1);
+        x.cut(1);
+        byte[] fourth = written(x, x.write());
+        c.same("more behind one that does", fourth.length - first.length, 20);
+        x.read();
+        c.same("nothing is used behind read()", x.write(), first.length - 20);
+    }
+
+    /** THE SUMs of TABLES and of the file go beyond 2^32, and the file's is above 2981146554, or below. */
+    private static void sumsThatWrap(Checks c) {
+        byte[] high = new Bytes().four(0xFFFFFFFFL, 0xFFFFFFFFL, 0xFFFFFFFFL, 0x80000000L).one(255, 255).done();
+        for (int i = 0; i < 16; i++) {
+            byte[] last = new Bytes().four(0x10000000L * i).done();
+            TrueOutlines x = FontFile.of(Sign.EMPTY).table("wwww", high).table("zzzz", last).read();
+            compare(c, "a sum that wraps, " + i, x, "glyf", new byte[0], "head", FontFile.head(1000, 0),
+                    "loca", new byte[4], "maxp", FontFile.maxp(1), "wwww", high, "zzzz", last);
+        }
     }
 
     private static void whatMustBeThere(Checks c) {
