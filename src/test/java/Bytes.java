@@ -44,6 +44,11 @@ final class Bytes {
         return this;
     }
 
+    Bytes clear() {
+        out.reset();
+        return this;
+    }
+
     int size() {
         return out.size();
     }
