@@ -516,7 +516,7 @@ public final class TrueOutlines {
         void use(int sign) {
             int done = used;
             mark(sign);
-            for (int i = done; i < used; i++) {
+            for (int i = done; i < used && i < SIGNS_MOST; i++) {
                 markPartsOf(inOrder[i]);
             }
         }
@@ -942,7 +942,10 @@ public final class TrueOutlines {
         void survey() {
             for (int level = DEEPEST; level > 0; level--) {
                 for (int sign = 0; sign < signs.size(); sign++) {
-                    yields[level * SIGNS_MOST + sign] = yieldOf(level, sign);
+                    int cell = cellOf(level, sign);
+                    if (cell >= 0) {
+                        yields[cell] = yieldOf(level, sign);
+                    }
                 }
             }
         }

@@ -10,6 +10,7 @@ public final class RunManyPartsTest {
         pointsAtEveryLevel(c);
         pointsInOneSignAlone(c);
         pointsUnderOneSignAlone(c);
+        partsOfHighSigns(c);
         c.end();
     }
 
@@ -152,6 +153,24 @@ public final class RunManyPartsTest {
                 c.same("where contour " + i + " begins", x.piece(2 * i, 3), 2 * due[i]);
             }
         }
+    }
+
+    /** Of 200 SIGNS all are EMPTY but a chain of five that goes to and fro between high and low ones. */
+    private static void partsOfHighSigns(Checks c) {
+        byte[][] signs = new byte[200][];
+        java.util.Arrays.fill(signs, Sign.EMPTY);
+        signs[199] = Sign.row(2);
+        signs[1] = Sign.composite(Sign.moved(199, 1, 0), Sign.moved(50, 0, 0));
+        signs[198] = Sign.composite(Sign.moved(1, 2, 0), Sign.moved(199, 0, 5));
+        signs[0] = Sign.composite(Sign.moved(150, 0, 0), Sign.moved(198, 4, 0), Sign.moved(200, 0, 0));
+        signs[101] = Sign.composite(Sign.moved(0, 8, 0), Sign.moved(100, 0, 0));
+        TrueOutlines x = FontFile.of(signs).read();
+        c.same("run(101)", x.run(101), 4);
+        c.piece("in all four others", x, 0, 0, 0, 30, 0);
+        c.piece("in three others", x, 2, 1, 0, 24, 10);
+        c.told("run(101)", x, 4, 200);
+        c.same("run(199)", x.run(199), 2);
+        c.same("run(200)", x.run(200), -1);
     }
 
     private static void joinedEmptyParts(Checks c) {
